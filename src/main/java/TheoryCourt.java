@@ -2417,8 +2417,10 @@ public final class TheoryCourt {
 
     /** Goes through cases, each with numbers that are best in it, and splits one where these are no model. */
     private static final class Search {
-        /** Above all bounds that there can be, and so as good as none. */
-        static final int ENDLESS = 400000000;
+        /** Above all bounds that there can be: a model with such a gap shows that there is no bound. */
+        static final int ENDLESS = 200000000;
+        /** What is aimed at without a bound; the terms' own numbers take a little of it away. */
+        private static final int AIM = 400000000;
         private static final int MAX_STATES = 512;
         private static final int MAX_CASES = 100000000;
 
@@ -2520,7 +2522,7 @@ public final class TheoryCourt {
             }
             int h = judge.base[high];
             int l = judge.base[low];
-            int reach = Math.min(current.above[h * State.WIDTH + l], ENDLESS);
+            int reach = Math.min(current.above[h * State.WIDTH + l], AIM);
             if (found && (long) reach + judge.offset[high] - judge.offset[low] <= most) {
                 return false;
             }
