@@ -21,6 +21,13 @@ public final class TheoryCourt {
     private static final int MAX_TERMS = 64;
     private static final int MAX_ASSERTIONS = 14;
     private static final int MAX_LEVELS = 8;
+    private static final int MAX_INT_UNITS = 6;
+    private static final int MAX_BOOL_UNITS = 4;
+    private static final int MAX_ARRAYS = 4;
+    private static final int MAX_PLACES = 3;
+    private static final int MAX_EQUATIONS = 3;
+    private static final int MAX_COMPARISONS = 12;
+    private static final int MAX_INT_ITES = 3;
     private static final int MAX_READ = 4000;
     private static final int MAX_NUMBER = 999999;
     private static final int MAX_CLAUSE = 8;
@@ -118,6 +125,7 @@ public final class TheoryCourt {
     private static final int FLAW_EQUATION = 3;
     private static final int FLAW_PAIR = 4;
     private static final int FLAW_MERGE = 5;
+    private static final int FLAW_OPEN = 6;
 
     private static final int SEEK_ANY = 0;
     private static final int SEEK_LEAST = 1;
@@ -126,13 +134,16 @@ public final class TheoryCourt {
     private final Text text;
     private final Symbols symbols;
     private final Terms terms;
-    private final Docket docket;
-    private final Clerk clerk;
+    private final Reader reader;
     private final Question question;
     private final Search search;
     private final Proof proof;
     private final Pen pen;
     private final int[] modelValue = new int[MAX_TERMS];
+    private final int[] sorts = new int[MAX_TAKES];
+    private final int[] parameters = new int[MAX_TAKES];
+    private int taken = 0;
+    private int cursor = 0;
     private int failedAt = NONE;
     private int satisfiable = NONE;
     private boolean modelReady = false;
@@ -144,11 +155,10 @@ public final class TheoryCourt {
         text = new Text();
         symbols = new Symbols();
         terms = new Terms();
-        docket = new Docket();
-        clerk = new Clerk(text, symbols, terms, docket);
+        reader = new Reader(text, symbols, terms);
         question = new Question(terms);
         search = new Search(terms, question);
-        proof = new Proof(terms, docket);
+        proof = new Proof(terms);
         pen = new Pen(terms, symbols);
     }
 
@@ -174,17 +184,190 @@ public final class TheoryCourt {
 
     public int run() {
         int answer = SYNTAX;
+        text.scan();
         if (text.isCommand()) {
-            answer = clerk.execute();
-            failedAt = clerk.failedAt();
+            answer = execute(text.operandOf(1));
+            failedAt = reader.faultPlace();
             if (answer >= 0) {
-                forget(text.code[1] & OPERAND);
+                forget(text.operandOf(1));
             }
         } else {
             failedAt = text.bad;
         }
         text.size = 0;
         return answer;
+    }
+
+    /** Carries a command out; one with a fault leaves all as it was. */
+    private int execute(int word) {
+        int termsBefore = terms.size;
+        reader.begin(word == W_DEFINE_FUN);
+        int answer = NONE;
+        switch (word) {
+            case W_DECLARE_CONST:
+            case W_DECLARE_FUN:
+                answer = declare(word);
+                break;
+            case W_DEFINE_FUN:
+                int gives = beginDefinition();
+                int body = cursor;
+                answer = endDefinition(reader.readTerm(body, text.tokens - 1), gives, body);
+                terms.size = termsBefore;
+                break;
+            case W_ASSERT:
+                answer = assertTerm(reader.readTerm(2, text.tokens - 1));
+                break;
+            case W_TERM:
+                answer = reader.readTerm(2, text.tokens - 1);
+                break;
+            case W_PUSH:
+                answer = pushLevel();
+                break;
+            default:
+                answer = popLevel();
+                break;
+        }
+        if (reader.fault != 0) {
+            terms.size = termsBefore;
+            return -100 - reader.fault;
+        }
+        return answer;
+    }
+
+    private int pushLevel() {
+        if (!terms.pushLevel(symbols)) {
+            reader.fail(FAULT_ROOM, 1);
+        }
+        return terms.levels;
+    }
+
+    private int popLevel() {
+        if (!terms.popLevel(symbols)) {
+            reader.fail(FAULT_POP, 1);
+        }
+        return terms.levels;
+    }
+
+    private int assertTerm(int t) {
+        if (reader.fault != 0 || !terms.has(t)) {
+            return NONE;
+        }
+        if (terms.sort[t] != BOOL) {
+            reader.fail(FAULT_SORT, 2);
+            return NONE;
+        }
+        int i = terms.assertTerm(t);
+        if (i == NONE) {
+            reader.fail(FAULT_ROOM, 1);
+        }
+        return i;
+    }
+
+    private int declare(int word) {
+        lookAtName();
+        if (word == W_DECLARE_CONST) {
+            cursor = 3;
+            return addSymbol(readSort());
+        }
+        cursor = 4;
+        for (int i = 0; i < MAX_TOKENS && text.typeOf(cursor) != T_CLOSE; i++) {
+            int at = cursor;
+            int sort = readSort();
+            if (taken < MAX_TAKES && sort != INT) {
+                reader.fail(FAULT_SORT, at);
+            }
+            addTaken(sort, at);
+        }
+        cursor++;
+        int at = cursor;
+        int gives = readSort();
+        if (taken > 0 && gives == ARRAY) {
+            reader.fail(FAULT_SORT, at);
+        }
+        return addSymbol(gives);
+    }
+
+    /** All of a define-fun ahead of its term, where the cursor is then; the sort that it gives. */
+    private int beginDefinition() {
+        lookAtName();
+        cursor = 4;
+        for (int i = 0; i < MAX_TOKENS && text.typeOf(cursor) == T_OPEN; i++) {
+            int at = cursor;
+            cursor += 2;
+            addTaken(readSort(), at);
+            cursor++;
+        }
+        cursor++;
+        int gives = readSort();
+        for (int i = 1; i < taken; i++) {
+            lookForTwin(i);
+        }
+        for (int i = 0; i < taken && reader.fault == 0; i++) {
+            reader.addParameter(parameters[i], i, sorts[i]);
+        }
+        return gives;
+    }
+
+    private int endDefinition(int t, int gives, int body) {
+        if (reader.fault == 0 && terms.has(t) && terms.sort[t] != gives) {
+            reader.fail(FAULT_SORT, body);
+        }
+        int s = addSymbol(gives);
+        if (s != NONE) {
+            symbols.define(s, text.code, body, text.tokens - 1);
+        }
+        return s;
+    }
+
+    /** One more sort that the symbol takes, or one too many; a parameter's NAME is behind its parenthesis. */
+    private void addTaken(int sort, int at) {
+        if (taken >= MAX_TAKES) {
+            reader.fail(FAULT_PARTS, at);
+        } else {
+            sorts[taken] = sort;
+            parameters[taken] = at + 1;
+            taken++;
+        }
+    }
+
+    private void lookForTwin(int i) {
+        for (int j = 0; j < i; j++) {
+            if (text.sameName(parameters[j], parameters[i])) {
+                reader.fail(FAULT_TWICE, parameters[i]);
+            }
+        }
+    }
+
+    private void lookAtName() {
+        taken = 0;
+        if (symbols.find(text.tape, text.at[2], text.length[2]) != NONE) {
+            reader.fail(FAULT_TWICE, 2);
+        }
+    }
+
+    private int readSort() {
+        int first = cursor;
+        boolean isArray = text.typeOf(first) == T_OPEN;
+        cursor += isArray ? 5 : 1;
+        if (isArray) {
+            return ARRAY;
+        }
+        return text.operandOf(first) == W_INT ? INT : BOOL;
+    }
+
+    /** The NAME of all three commands is their third token. */
+    private int addSymbol(int gives) {
+        if (symbols.size >= MAX_SYMBOLS) {
+            reader.fail(FAULT_ROOM, 1);
+        }
+        if (reader.fault != 0) {
+            return NONE;
+        }
+        int s = symbols.add(text.tape, text.at[2], text.length[2], gives);
+        for (int i = 0; i < taken; i++) {
+            symbols.addTaken(s, sorts[i]);
+        }
+        return s;
     }
 
     /** What was found out goes where the command may have changed it. */
@@ -216,9 +399,9 @@ public final class TheoryCourt {
             case 1:
                 return terms.size;
             case 2:
-                return docket.assertions;
+                return terms.assertions;
             case 3:
-                return docket.levels;
+                return terms.levels;
             default:
                 return what >= 4 && what <= 9 ? terms.tally(what - 4) : NONE;
         }
@@ -243,12 +426,12 @@ public final class TheoryCourt {
     }
 
     public int asserted(int i) {
-        return docket.has(i) ? docket.assertion[i] : NONE;
+        return terms.isAssertion(i) ? terms.assertion[i] : NONE;
     }
 
     public int check() {
         if (satisfiable == NONE) {
-            satisfiable = canAll((1 << docket.assertions) - 1) ? 1 : 0;
+            satisfiable = canAll((1 << terms.assertions) - 1) ? 1 : 0;
         }
         return satisfiable;
     }
@@ -262,9 +445,9 @@ public final class TheoryCourt {
 
     private void demandAll(int mask) {
         question.begin();
-        for (int i = 0; i < docket.assertions; i++) {
+        for (int i = 0; i < terms.assertions; i++) {
             if ((mask >> i & 1) == 1) {
-                question.demand(docket.assertion[i], 1);
+                question.demand(terms.assertion[i], 1);
             }
         }
     }
@@ -273,24 +456,25 @@ public final class TheoryCourt {
         if (!terms.has(k) || terms.sort[k] == ARRAY) {
             return NONE;
         }
-        return findModel() ? modelValue[k] : UNSAT;
+        if (check() == 0) {
+            return UNSAT;
+        }
+        findModel();
+        return modelValue[k];
     }
 
-    private boolean findModel() {
-        if (check() == 0) {
-            return false;
-        }
+    /** The caller has looked that there is a model. */
+    private void findModel() {
         if (!modelReady) {
-            demandAll((1 << docket.assertions) - 1);
+            demandAll((1 << terms.assertions) - 1);
             question.gather(true, NONE, NONE);
             modelReady = search.seek(SEEK_LEAST, NONE, NONE);
             System.arraycopy(search.bestValue, 0, modelValue, 0, MAX_TERMS);
         }
-        return modelReady;
     }
 
     public int core(int i) {
-        if (!docket.has(i) || check() == 1) {
+        if (!terms.isAssertion(i) || check() == 1) {
             return NONE;
         }
         findCore();
@@ -301,8 +485,8 @@ public final class TheoryCourt {
         if (coreMask != NONE) {
             return;
         }
-        int mask = (1 << docket.assertions) - 1;
-        for (int i = docket.assertions - 1; i >= 0; i--) {
+        int mask = (1 << terms.assertions) - 1;
+        for (int i = terms.assertions - 1; i >= 0; i--) {
             int without = mask & ~(1 << i);
             if (!canAll(without)) {
                 mask = without;
@@ -334,7 +518,7 @@ public final class TheoryCourt {
         if ((seen & bit) != 0 || (never & bit) != 0) {
             return (seen & bit) != 0;
         }
-        demandAll((1 << docket.assertions) - 1);
+        demandAll((1 << terms.assertions) - 1);
         question.demand(k, wanted);
         question.gather(false, NONE, NONE);
         if (search.seek(SEEK_ANY, NONE, NONE)) {
@@ -355,7 +539,7 @@ public final class TheoryCourt {
         if (check() == 0) {
             return UNSAT;
         }
-        demandAll((1 << docket.assertions) - 1);
+        demandAll((1 << terms.assertions) - 1);
         question.gather(false, i, j);
         if (!search.seek(SEEK_MOST, i, j)) {
             return UNSAT;
@@ -402,11 +586,9 @@ public final class TheoryCourt {
             findCore();
             return canAll(coreMask) ? 0 : 1;
         }
-        if (!findModel()) {
-            return 0;
-        }
-        for (int i = 0; i < docket.assertions; i++) {
-            if (modelValue[docket.assertion[i]] != 1) {
+        findModel();
+        for (int i = 0; i < terms.assertions; i++) {
+            if (modelValue[terms.assertion[i]] != 1) {
                 return 0;
             }
         }
@@ -419,16 +601,16 @@ public final class TheoryCourt {
         private static final int IN_LET = -2;
 
         final byte[] tape = new byte[MAX_TAPE];
-        final int[] code = new int[MAX_TOKENS];
-        final int[] at = new int[MAX_TOKENS];
-        final int[] length = new int[MAX_TOKENS];
+        /** Tokens, and behind the last one a 0 where none begins: at the end, or at what is none. */
+        final int[] code = new int[MAX_TOKENS + 1];
+        final int[] at = new int[MAX_TOKENS + 1];
+        final int[] length = new int[MAX_TOKENS + 1];
         /** By open term: how many terms it has, or where in a let it is. */
         private final int[] nest = new int[MAX_OPEN + 1];
         int size = 0;
         int tokens = 0;
         int bad = NONE;
-        private int pos = 0;
-        private int open = 0;
+        private int taken = 0;
         private int ahead = 0;
 
         void put(int word) {
@@ -440,19 +622,109 @@ public final class TheoryCourt {
             }
         }
 
-        boolean isCommand() {
+        /** Cuts the tape into tokens, up to the first place where none can be. */
+        void scan() {
+            int pos = 0;
+            int open = 0;
             tokens = 0;
-            pos = 0;
-            open = 0;
+            for (int i = 0; i <= MAX_TOKENS; i++) {
+                pos = skipBlanks(pos);
+                int made = pos < size && i < MAX_TOKENS ? scanToken(pos) : 0;
+                open += made == OPEN ? 1 : made == CLOSE ? -1 : 0;
+                at[i] = pos;
+                code[i] = open > MAX_OPEN ? 0 : made;
+                if (code[i] == 0) {
+                    return;
+                }
+                length[i] = made == OPEN || made == CLOSE ? 1 : lengthOfRun(pos);
+                pos += length[i];
+                tokens++;
+            }
+        }
+
+        private int skipBlanks(int from) {
+            int pos = from;
+            for (int i = from; i < size && isBlank(tape[i]); i++) {
+                pos = i + 1;
+            }
+            return pos;
+        }
+
+        /** The token that begins at a place; 0 when there is none, or it is too long. */
+        private int scanToken(int pos) {
+            int first = tape[pos];
+            if (first == '(' || first == ')') {
+                return first == '(' ? OPEN : CLOSE;
+            }
+            int run = lengthOfRun(pos);
+            return isDigit(first) ? scanNumeral(pos, run) : scanSymbol(pos, run);
+        }
+
+        private int lengthOfRun(int pos) {
+            int run = 0;
+            for (int i = pos; i < size && isSymbolByte(tape[i]); i++) {
+                run++;
+            }
+            return run;
+        }
+
+        private int scanNumeral(int pos, int run) {
+            if (run > MAX_DIGITS || run > 1 && tape[pos] == '0') {
+                return 0;
+            }
+            int number = 0;
+            for (int i = pos; i < pos + run; i++) {
+                if (!isDigit(tape[i])) {
+                    return 0;
+                }
+                number = number * 10 + tape[i] - '0';
+            }
+            return (T_NUMERAL << TYPE_SHIFT) + number;
+        }
+
+        private int scanSymbol(int pos, int run) {
+            if (run == 0 || run > MAX_NAME) {
+                return 0;
+            }
+            for (int w = 0; w < WORD_AT.length; w++) {
+                if (WORD_LENGTH[w] == run && isWord(w, pos)) {
+                    return word(w);
+                }
+            }
+            return T_NAME << TYPE_SHIFT;
+        }
+
+        private boolean isWord(int w, int pos) {
+            for (int i = 0; i < WORD_LENGTH[w]; i++) {
+                if (WORDS.charAt(WORD_AT[w] + i) != tape[pos + i]) {
+                    return false;
+                }
+            }
+            return true;
+        }
+
+        private static boolean isBlank(int c) {
+            return c == 9 || c == 10 || c == 13 || c == 32;
+        }
+
+        private static boolean isDigit(int c) {
+            return c >= '0' && c <= '9';
+        }
+
+        /** Bytes above 127 are below 0 here, and so in no token. */
+        private static boolean isSymbolByte(int c) {
+            return c >= 'a' && c <= 'z' || c >= 'A' && c <= 'Z' || c >= '0' && c <= '9'
+                    || c > 0 && MARKS.indexOf((char) c) >= 0;
+        }
+
+        boolean isCommand() {
+            taken = 0;
             bad = NONE;
             want(OPEN);
-            int word = next();
-            if (bad == NONE) {
-                readRest(word);
-            }
-            skipBlanks();
-            if (bad == NONE && pos < size) {
-                bad = pos;
+            readRest(next());
+            want(CLOSE);
+            if (bad == NONE && (taken < tokens || at[tokens] < size)) {
+                bad = at[taken];
             }
             return bad == NONE;
         }
@@ -487,7 +759,6 @@ public final class TheoryCourt {
                     refuse();
                     break;
             }
-            want(CLOSE);
         }
 
         private void readSorts() {
@@ -527,7 +798,7 @@ public final class TheoryCourt {
             int depth = 0;
             int token = next();
             for (int i = 0; i < MAX_TOKENS && bad == NONE; i++) {
-                if (token == OPEN) {
+                if (token == OPEN && depth < MAX_OPEN) {
                     depth++;
                     openTerm(depth);
                     token = next();
@@ -545,10 +816,6 @@ public final class TheoryCourt {
 
         private void openTerm(int depth) {
             int head = next();
-            if (bad != NONE || depth > MAX_OPEN) {
-                refuse();
-                return;
-            }
             if (head == word(W_LET)) {
                 nest[depth] = IN_LIST;
                 want(OPEN);
@@ -622,10 +889,10 @@ public final class TheoryCourt {
             }
         }
 
-        /** The latest token cannot stand there, unless a fault was found before. */
+        /** The token that was taken last cannot stand there, unless a fault was found before. */
         private void refuse() {
             if (bad == NONE) {
-                bad = tokens > 0 ? at[tokens - 1] : 0;
+                bad = taken > 0 ? at[taken - 1] : 0;
             }
         }
 
@@ -633,93 +900,12 @@ public final class TheoryCourt {
             if (bad != NONE) {
                 return 0;
             }
-            skipBlanks();
-            int run = 1;
-            int made = 0;
-            if (pos < size && tokens < MAX_TOKENS) {
-                int first = tape[pos] & 255;
-                if (first == '(') {
-                    made = open < MAX_OPEN ? OPEN : 0;
-                    open++;
-                } else if (first == ')') {
-                    made = CLOSE;
-                    open--;
-                } else {
-                    run = lengthOfRun();
-                    made = isDigit(first) ? numeral(run) : symbolToken(run);
-                }
-            }
-            if (made == 0) {
-                bad = pos;
+            if (taken >= tokens) {
+                bad = at[tokens];
                 return 0;
             }
-            code[tokens] = made;
-            at[tokens] = pos;
-            length[tokens] = run;
-            tokens++;
-            pos += run;
-            return made;
-        }
-
-        private void skipBlanks() {
-            for (int i = pos; i < size && isBlank(tape[i]); i++) {
-                pos = i + 1;
-            }
-        }
-
-        private int lengthOfRun() {
-            int run = 0;
-            for (int i = pos; i < size && isSymbolByte(tape[i] & 255); i++) {
-                run++;
-            }
-            return run;
-        }
-
-        private int numeral(int run) {
-            if (run > MAX_DIGITS || run > 1 && tape[pos] == '0') {
-                return 0;
-            }
-            int number = 0;
-            for (int i = pos; i < pos + run; i++) {
-                if (!isDigit(tape[i])) {
-                    return 0;
-                }
-                number = number * 10 + tape[i] - '0';
-            }
-            return (T_NUMERAL << TYPE_SHIFT) + number;
-        }
-
-        private int symbolToken(int run) {
-            if (run == 0 || run > MAX_NAME) {
-                return 0;
-            }
-            for (int w = 0; w < WORD_AT.length; w++) {
-                if (WORD_LENGTH[w] == run && isWord(WORD_AT[w], run)) {
-                    return word(w);
-                }
-            }
-            return T_NAME << TYPE_SHIFT;
-        }
-
-        private boolean isWord(int from, int run) {
-            for (int i = 0; i < run; i++) {
-                if (WORDS.charAt(from + i) != tape[pos + i]) {
-                    return false;
-                }
-            }
-            return true;
-        }
-
-        private static boolean isBlank(int c) {
-            return c == 9 || c == 10 || c == 13 || c == 32;
-        }
-
-        private static boolean isDigit(int c) {
-            return c >= '0' && c <= '9';
-        }
-
-        private static boolean isSymbolByte(int c) {
-            return c >= 'a' && c <= 'z' || c >= 'A' && c <= 'Z' || isDigit(c) || MARKS.indexOf((char) c) >= 0;
+            taken++;
+            return code[taken - 1];
         }
 
         int typeOf(int token) {
@@ -735,13 +921,11 @@ public final class TheoryCourt {
         }
 
         boolean sameName(int one, int other) {
-            int a = placeOf(one);
-            int b = placeOf(other);
-            if (a < 0 || b < 0 || length[one] != length[other]) {
+            if (one < 0 || one >= tokens || other < 0 || other >= tokens || length[one] != length[other]) {
                 return false;
             }
             for (int i = 0; i < length[one]; i++) {
-                if (tape[a + i] != tape[b + i]) {
+                if (tape[at[one] + i] != tape[at[other] + i]) {
                     return false;
                 }
             }
@@ -763,22 +947,19 @@ public final class TheoryCourt {
             return s >= 0 && s < size;
         }
 
-        int find(Text text, int token) {
+        /** The symbol whose NAME stands on the tape at a place; NONE. */
+        int find(byte[] tape, int from, int count) {
             for (int s = 0; s < size; s++) {
-                if (isNamed(s, text, token)) {
+                if (nameLength[s] == count && isNamed(s, tape, from)) {
                     return s;
                 }
             }
             return NONE;
         }
 
-        private boolean isNamed(int s, Text text, int token) {
-            int from = text.placeOf(token);
-            if (from < 0 || text.length[token] != nameLength[s]) {
-                return false;
-            }
+        private boolean isNamed(int s, byte[] tape, int from) {
             for (int i = 0; i < nameLength[s]; i++) {
-                if (names[s * MAX_NAME + i] != text.tape[from + i]) {
+                if (names[s * MAX_NAME + i] != tape[from + i]) {
                     return false;
                 }
             }
@@ -786,20 +967,25 @@ public final class TheoryCourt {
         }
 
         /** The caller has looked that there is room, and that the NAME is new. */
-        int add(Text text, int token, int[] sorts, int count, int sort) {
+        int add(byte[] tape, int from, int count, int sort) {
             int s = size;
-            int from = text.placeOf(token);
-            if (s >= MAX_SYMBOLS || from < 0 || count > MAX_TAKES) {
+            if (s >= MAX_SYMBOLS || from < 0 || count < 0 || count > MAX_NAME || from + count > MAX_TAPE) {
                 return NONE;
             }
-            nameLength[s] = Math.min(text.length[token], MAX_NAME);
-            System.arraycopy(text.tape, from, names, s * MAX_NAME, nameLength[s]);
-            System.arraycopy(sorts, 0, takeSorts, s * MAX_TAKES, count);
-            takes[s] = count;
+            System.arraycopy(tape, from, names, s * MAX_NAME, count);
+            nameLength[s] = count;
+            takes[s] = 0;
             gives[s] = sort;
             bodies[s] = null;
             size++;
             return s;
+        }
+
+        void addTaken(int s, int sort) {
+            if (has(s) && takes[s] < MAX_TAKES) {
+                takeSorts[s * MAX_TAKES + takes[s]] = sort;
+                takes[s]++;
+            }
         }
 
         void define(int s, int[] code, int from, int to) {
@@ -850,7 +1036,10 @@ public final class TheoryCourt {
         }
     }
 
-    /** The shared terms: parts have lower numbers than what they are parts of. */
+    /**
+     * The shared terms, whose parts have lower numbers than they; which of them are asserted; and the levels
+     * by which all that comes and goes.
+     */
     private static final class Terms {
         private static final int TALLIES = 7;
         private static final int INT_UNITS = 0;
@@ -860,7 +1049,8 @@ public final class TheoryCourt {
         private static final int EQUATIONS = 4;
         private static final int COMPARISONS = 5;
         private static final int INT_ITES = 6;
-        private static final int[] ROOM = {6, 4, 4, 3, 3, 12, 3};
+        private static final int[] ROOM = {MAX_INT_UNITS, MAX_BOOL_UNITS, MAX_ARRAYS, MAX_PLACES,
+            MAX_EQUATIONS, MAX_COMPARISONS, MAX_INT_ITES};
 
         final int[] kind = new int[MAX_TERMS];
         final int[] number = new int[MAX_TERMS];
@@ -870,9 +1060,51 @@ public final class TheoryCourt {
         /** A row of tallies for each number of terms, so that terms go without counting anew. */
         private final int[] tallies = new int[(MAX_TERMS + 1) * TALLIES];
         int size = 0;
+        final int[] assertion = new int[MAX_ASSERTIONS];
+        int assertions = 0;
+        private final int[] symbolsBefore = new int[MAX_LEVELS];
+        private final int[] termsBefore = new int[MAX_LEVELS];
+        private final int[] assertionsBefore = new int[MAX_LEVELS];
+        int levels = 0;
 
         boolean has(int t) {
             return t >= 0 && t < size;
+        }
+
+        boolean isAssertion(int i) {
+            return i >= 0 && i < assertions;
+        }
+
+        /** The assertion's number; NONE when there is no room. */
+        int assertTerm(int t) {
+            if (assertions >= MAX_ASSERTIONS) {
+                return NONE;
+            }
+            assertion[assertions] = t;
+            assertions++;
+            return assertions - 1;
+        }
+
+        boolean pushLevel(Symbols symbols) {
+            if (levels >= MAX_LEVELS) {
+                return false;
+            }
+            symbolsBefore[levels] = symbols.size;
+            termsBefore[levels] = size;
+            assertionsBefore[levels] = assertions;
+            levels++;
+            return true;
+        }
+
+        boolean popLevel(Symbols symbols) {
+            if (levels <= 0) {
+                return false;
+            }
+            levels--;
+            symbols.size = symbolsBefore[levels];
+            size = termsBefore[levels];
+            assertions = assertionsBefore[levels];
+            return true;
         }
 
         int part(int t, int i) {
@@ -937,7 +1169,7 @@ public final class TheoryCourt {
             if (sort[t] == ARRAY) {
                 tallies[row + ARRAYS]++;
             }
-            if (isNewPlace(t)) {
+            if (hasPlace(t) && isNewPlace(t)) {
                 tallies[row + PLACES]++;
             }
             if (kind[t] == ITE && sort[t] == INT) {
@@ -965,12 +1197,11 @@ public final class TheoryCourt {
             return kind[t] == SELECT || kind[t] == STORE;
         }
 
+        /** No term before this SELECT or STORE has its place. */
         private boolean isNewPlace(int t) {
-            if (!hasPlace(t)) {
-                return false;
-            }
-            for (int earlier = 0; earlier < t; earlier++) {
-                if (hasPlace(earlier) && part(earlier, 1) == part(t, 1)) {
+            int place = partRow[t * MAX_PARTS + 1];
+            for (int i = 0; i < t; i++) {
+                if ((kind[i] == SELECT || kind[i] == STORE) && partRow[i * MAX_PARTS + 1] == place) {
                     return false;
                 }
             }
@@ -979,70 +1210,31 @@ public final class TheoryCourt {
 
         /** The last part that part i is told together with: all behind it in DISTINCT, else the next one. */
         int lastPartner(int t, int i) {
-            int next = Math.min(i + 1, parts[t] - 1);
-            return kind[t] == DISTINCT ? parts[t] - 1 : next;
-        }
-    }
-
-    /** Assertions, and the levels that they come and go by. */
-    private static final class Docket {
-        final int[] assertion = new int[MAX_ASSERTIONS];
-        int assertions = 0;
-        int levels = 0;
-        private final int[] symbolsBefore = new int[MAX_LEVELS];
-        private final int[] termsBefore = new int[MAX_LEVELS];
-        private final int[] assertionsBefore = new int[MAX_LEVELS];
-
-        boolean has(int i) {
-            return i >= 0 && i < assertions;
-        }
-
-        int add(int t) {
-            if (assertions >= MAX_ASSERTIONS) {
-                return NONE;
-            }
-            assertion[assertions] = t;
-            assertions++;
-            return assertions - 1;
-        }
-
-        boolean open(Symbols symbols, Terms terms) {
-            if (levels >= MAX_LEVELS) {
-                return false;
-            }
-            symbolsBefore[levels] = symbols.size;
-            termsBefore[levels] = terms.size;
-            assertionsBefore[levels] = assertions;
-            levels++;
-            return true;
-        }
-
-        boolean shut(Symbols symbols, Terms terms) {
-            if (levels <= 0) {
-                return false;
-            }
-            levels--;
-            symbols.size = symbolsBefore[levels];
-            terms.size = termsBefore[levels];
-            assertions = assertionsBefore[levels];
-            return true;
+            return kind[t] == DISTINCT || i + 1 >= parts[t] ? parts[t] - 1 : i + 1;
         }
     }
 
     /**
      * Makes terms of tokens. What is open is kept on a row of frames, for terms of define-funs stand in
-     * one another deeper than calls may.
+     * one another deeper than calls may; and what is to be made is asked for, and made by the loop itself.
      */
     private static final class Reader {
         private static final int MAX_VALUES = 4600;
         private static final int MAX_FRAMES = 600;
         private static final int MAX_MOVES = 20000;
+        private static final int COMMAND = -1;
         private static final int F_OPERATION = 0;
         private static final int F_APPLICATION = 1;
         private static final int F_BINDING = 2;
         private static final int F_LET_BODY = 3;
         private static final int F_DEFINITION = 4;
-        private static final int COMMAND = -1;
+        /** A frame's fields: its kind, its word or symbol (or source), how many values were there, its token. */
+        private static final int FRAME = 5;
+        private static final int KIND = 0;
+        private static final int HEAD = 1;
+        private static final int FLOOR = 2;
+        private static final int TOKEN = 3;
+        private static final int BASE = 4;
 
         private final Text text;
         private final Symbols symbols;
@@ -1050,21 +1242,21 @@ public final class TheoryCourt {
         private final int[] values = new int[MAX_VALUES];
         /** By value: the NAME token that it is seen by; below NONE: will be seen by; NONE. */
         private final int[] names = new int[MAX_VALUES];
-        private final int[] frameKind = new int[MAX_FRAMES];
-        private final int[] frameHead = new int[MAX_FRAMES];
-        private final int[] frameFloor = new int[MAX_FRAMES];
-        private final int[] frameToken = new int[MAX_FRAMES];
-        private final int[] frameBase = new int[MAX_FRAMES];
+        private final int[] frames = new int[MAX_FRAMES * FRAME];
+        private int frameCount = 0;
         private int top = 0;
-        private int frames = 0;
         private int source = COMMAND;
         private int pc = 0;
         private int base = 0;
         private int read = 0;
         private int callToken = 0;
         private boolean defining = false;
+        private int askedKind = NONE;
+        private int askedNumber = 0;
+        private int askedSort = 0;
+        private int askedParts = 0;
         int fault = 0;
-        int faultPlace = NONE;
+        private int faultToken = 0;
 
         Reader(Text text, Symbols symbols, Terms terms) {
             this.text = text;
@@ -1074,32 +1266,34 @@ public final class TheoryCourt {
 
         void begin(boolean forDefinition) {
             top = 0;
-            frames = 0;
+            frameCount = 0;
             source = COMMAND;
             base = 0;
             read = 0;
             defining = forDefinition;
+            askedKind = NONE;
             fault = 0;
-            faultPlace = NONE;
         }
 
         void fail(int code, int token) {
             if (fault == 0) {
                 fault = code;
-                faultPlace = text.placeOf(source == COMMAND ? token : callToken);
+                faultToken = source == COMMAND ? token : callToken;
             }
         }
 
-        void failRoom() {
+        /** Where the fault is: without room it is the word behind the command's parenthesis. */
+        int faultPlace() {
             if (fault == 0) {
-                fault = FAULT_ROOM;
-                faultPlace = text.placeOf(1);
+                return NONE;
             }
+            return text.placeOf(fault == FAULT_ROOM ? 1 : faultToken);
         }
 
         /** A parameter is a term that no symbol has: its number lies behind all symbols'. */
         void addParameter(int token, int index, int sort) {
-            push(make(NAME, MAX_SYMBOLS + index, sort, 0, 0));
+            ask(NAME, MAX_SYMBOLS + index, sort, 0);
+            makeAsked();
             if (fault == 0) {
                 names[top - 1] = token;
             }
@@ -1117,6 +1311,9 @@ public final class TheoryCourt {
                 } else {
                     leaveDefinition();
                 }
+                if (askedKind != NONE) {
+                    makeAsked();
+                }
             }
             return fault == 0 && top > 0 ? values[top - 1] : NONE;
         }
@@ -1133,27 +1330,28 @@ public final class TheoryCourt {
             switch (token >> TYPE_SHIFT) {
                 case T_OPEN:
                     openTerm();
-                    return;
+                    break;
                 case T_CLOSE:
                     closeTerm();
-                    return;
+                    break;
                 case T_NUMERAL:
-                    push(make(CONSTANT, operand, INT, 0, 0));
+                    ask(CONSTANT, operand, INT, 0);
                     pc++;
-                    return;
+                    break;
                 case T_WORD:
-                    push(make(operand == W_TRUE ? TRUE : FALSE, 0, BOOL, 0, 0));
+                    ask(operand == W_TRUE ? TRUE : FALSE, 0, BOOL, 0);
                     pc++;
-                    return;
+                    break;
                 case T_SLOT:
                     push(base + operand < top ? values[base + operand] : NONE);
                     pc++;
-                    return;
+                    break;
                 case T_SYMBOL:
                     takeSymbol(operand);
-                    return;
+                    break;
                 default:
                     findName(pc);
+                    break;
             }
         }
 
@@ -1169,7 +1367,7 @@ public final class TheoryCourt {
         }
 
         private void findSymbol(int token) {
-            int s = symbols.find(text, token);
+            int s = symbols.find(text.tape, text.at[token], text.length[token]);
             if (s == NONE) {
                 fail(FAULT_UNKNOWN, token);
             } else {
@@ -1185,7 +1383,7 @@ public final class TheoryCourt {
             } else if (symbols.isDefined(s)) {
                 enterDefinition(s, top, token);
             } else {
-                push(make(NAME, s, symbols.gives[s], 0, 0));
+                ask(NAME, s, symbols.gives[s], 0);
             }
         }
 
@@ -1215,27 +1413,27 @@ public final class TheoryCourt {
         /** At the ( before a NAME of let; names within define-funs' terms were looked at when these came. */
         private void beginBinding() {
             int name = pc + 1;
-            int frame = frames - 1;
+            int frame = (frameCount - 1) * FRAME;
             pc += 2;
             if (source != COMMAND || frame < 0) {
                 return;
             }
-            for (int i = frameFloor[frame]; i < top; i++) {
+            for (int i = frames[frame + FLOOR]; i < top; i++) {
                 if (text.sameName(-2 - names[i], name)) {
                     fail(FAULT_TWICE, name);
                 }
             }
-            frameHead[frame] = name;
+            frames[frame + HEAD] = name;
         }
 
         private void closeTerm() {
-            int frame = frames - 1;
+            int frame = (frameCount - 1) * FRAME;
             pc++;
-            if (frame < 0) {
-                failRoom();
+            if (frame < 0 || top <= 0) {
+                fault = FAULT_ROOM;
                 return;
             }
-            switch (frameKind[frame]) {
+            switch (frames[frame + KIND]) {
                 case F_OPERATION:
                     operate(frame);
                     break;
@@ -1246,50 +1444,49 @@ public final class TheoryCourt {
                     endBinding(frame);
                     break;
                 default:
-                    endFrame(top > 0 ? values[top - 1] : NONE);
+                    endFrame(values[top - 1]);
                     break;
             }
         }
 
         private void endBinding(int frame) {
-            if (source == COMMAND && top > 0) {
-                names[top - 1] = -2 - frameHead[frame];
+            if (source == COMMAND) {
+                names[top - 1] = -2 - frames[frame + HEAD];
             }
             if (tokenAt(pc) == OPEN) {
                 beginBinding();
                 return;
             }
             pc++;
-            frameKind[frame] = F_LET_BODY;
-            for (int i = frameFloor[frame]; source == COMMAND && i < top; i++) {
+            frames[frame + KIND] = F_LET_BODY;
+            for (int i = frames[frame + FLOOR]; source == COMMAND && i < top; i++) {
                 names[i] = -2 - names[i];
             }
         }
 
+        /** The parts stay behind the values until what they are parts of is made. */
         private void operate(int frame) {
-            int op = frameHead[frame];
-            int floor = frameFloor[frame];
-            int token = frameToken[frame];
+            int op = frames[frame + HEAD];
+            int floor = frames[frame + FLOOR];
+            int token = frames[frame + TOKEN];
             int count = top - floor;
+            frameCount--;
+            top = floor;
             if (count < OP_LEAST[op] || count > OP_MOST[op]) {
                 fail(FAULT_PARTS, token);
             } else if (!sortsFit(OP_KIND[op], floor, count)) {
                 fail(FAULT_SORT, token);
             } else if (OP_KIND[op] == PLUS) {
-                endFrame(sum(op, floor, count, token));
+                sum(op, count, token);
             } else {
-                endFrame(make(OP_KIND[op], 0, sortMade(OP_KIND[op], floor), floor, count));
+                ask(OP_KIND[op], 0, sortMade(OP_KIND[op], floor), count);
             }
-        }
-
-        private int sortAt(int i) {
-            return terms.sort[values[i]];
         }
 
         private int sortMade(int kind, int floor) {
             switch (kind) {
                 case ITE:
-                    return sortAt(floor + 1);
+                    return terms.sort[values[floor + 1]];
                 case SELECT:
                     return INT;
                 case STORE:
@@ -1300,23 +1497,24 @@ public final class TheoryCourt {
         }
 
         private boolean sortsFit(int kind, int floor, int count) {
+            int first = terms.sort[values[floor]];
             switch (kind) {
                 case ITE:
-                    return sortAt(floor) == BOOL && sortAt(floor + 1) == sortAt(floor + 2);
+                    return first == BOOL && areAll(terms.sort[values[floor + 1]], floor + 1, 2);
                 case SELECT:
                 case STORE:
-                    return sortAt(floor) == ARRAY && areAll(INT, floor + 1, count - 1);
+                    return first == ARRAY && areAll(INT, floor + 1, count - 1);
                 case EQUAL:
                 case DISTINCT:
-                    return areAll(sortAt(floor), floor, count);
+                    return areAll(first, floor, count);
                 default:
                     return areAll(kind >= NOT && kind <= IMPLIES ? BOOL : INT, floor, count);
             }
         }
 
         private boolean areAll(int sort, int from, int count) {
-            for (int i = 0; i < count; i++) {
-                if (sortAt(from + i) != sort) {
+            for (int i = from; i < from + count; i++) {
+                if (terms.sort[values[i]] != sort) {
                     return false;
                 }
             }
@@ -1324,11 +1522,11 @@ public final class TheoryCourt {
         }
 
         /** What + and - make: a CONSTANT, a PLUS, or the one term that is no CONSTANT itself. */
-        private int sum(int op, int floor, int count, int token) {
+        private void sum(int op, int count, int token) {
             int total = 0;
             int rest = NONE;
             for (int i = 0; i < count; i++) {
-                int t = values[floor + i];
+                int t = values[top + i];
                 boolean taken = op == W_MINUS && (count == 1 || i == 1);
                 if (terms.kind[t] == CONSTANT) {
                     total += taken ? -terms.number[t] : terms.number[t];
@@ -1336,7 +1534,6 @@ public final class TheoryCourt {
                     rest = t;
                 } else {
                     fail(FAULT_SUM, token);
-                    return NONE;
                 }
             }
             if (rest != NONE && terms.kind[rest] == PLUS) {
@@ -1345,40 +1542,36 @@ public final class TheoryCourt {
             }
             if (total < -MAX_NUMBER || total > MAX_NUMBER) {
                 fail(FAULT_NUMBER, token);
-                return NONE;
+            } else if (rest == NONE) {
+                ask(CONSTANT, total, INT, 0);
+            } else if (total == 0) {
+                push(rest);
+            } else {
+                values[top] = rest;
+                ask(PLUS, total, INT, 1);
             }
-            if (rest == NONE) {
-                return make(CONSTANT, total, INT, 0, 0);
-            }
-            if (total == 0) {
-                return rest;
-            }
-            values[floor] = rest;
-            return make(PLUS, total, INT, floor, 1);
         }
 
         private void apply(int frame) {
-            int s = frameHead[frame];
-            int floor = frameFloor[frame];
-            int token = frameToken[frame];
+            int s = frames[frame + HEAD];
+            int floor = frames[frame + FLOOR];
+            int token = frames[frame + TOKEN];
             int count = top - floor;
+            frameCount--;
             if (count != symbols.takes[s]) {
                 fail(FAULT_PARTS, token);
                 return;
             }
             for (int i = 0; i < count; i++) {
-                if (sortAt(floor + i) != symbols.sortTaken(s, i)) {
+                if (terms.sort[values[floor + i]] != symbols.sortTaken(s, i)) {
                     fail(FAULT_SORT, token);
                 }
             }
-            if (fault != 0) {
-                return;
-            }
-            if (symbols.isDefined(s)) {
-                frames--;
+            if (fault == 0 && symbols.isDefined(s)) {
                 enterDefinition(s, floor, token);
-            } else {
-                endFrame(make(APPLICATION, s, symbols.gives[s], floor, count));
+            } else if (fault == 0) {
+                top = floor;
+                ask(APPLICATION, s, symbols.gives[s], count);
             }
         }
 
@@ -1386,56 +1579,53 @@ public final class TheoryCourt {
         private void enterDefinition(int s, int floor, int token) {
             read += symbols.bodyLength(s);
             if (read > MAX_READ) {
-                failRoom();
+                fault = FAULT_ROOM;
                 return;
             }
             if (source == COMMAND) {
                 callToken = token;
             }
             pushFrame(F_DEFINITION, source, floor, pc);
-            if (fault == 0) {
-                frameBase[frames - 1] = base;
-                source = s;
-                base = floor;
-                pc = 0;
-            }
+            source = s;
+            base = floor;
+            pc = 0;
         }
 
         private void leaveDefinition() {
-            int frame = frames - 1;
-            if (frame < 0) {
-                failRoom();
+            int frame = (frameCount - 1) * FRAME;
+            if (frame < 0 || top <= 0) {
+                fault = FAULT_ROOM;
                 return;
             }
-            source = frameHead[frame];
-            pc = frameToken[frame];
-            base = frameBase[frame];
-            endFrame(top > 0 ? values[top - 1] : NONE);
+            source = frames[frame + HEAD];
+            pc = frames[frame + TOKEN];
+            base = frames[frame + BASE];
+            endFrame(values[top - 1]);
         }
 
         private void pushFrame(int kind, int head, int floor, int token) {
-            if (frames >= MAX_FRAMES) {
-                failRoom();
+            if (frameCount >= MAX_FRAMES) {
+                fault = FAULT_ROOM;
                 return;
             }
-            frameKind[frames] = kind;
-            frameHead[frames] = head;
-            frameFloor[frames] = floor;
-            frameToken[frames] = token;
-            frames++;
+            int frame = frameCount * FRAME;
+            frames[frame + KIND] = kind;
+            frames[frame + HEAD] = head;
+            frames[frame + FLOOR] = floor;
+            frames[frame + TOKEN] = token;
+            frames[frame + BASE] = base;
+            frameCount++;
         }
 
         private void endFrame(int result) {
-            if (fault == 0) {
-                frames--;
-                top = frameFloor[frames];
-                push(result);
-            }
+            frameCount--;
+            top = frames[frameCount * FRAME + FLOOR];
+            push(result);
         }
 
         private void push(int t) {
-            if (t < 0 || top >= MAX_VALUES) {
-                failRoom();
+            if (t < 0 || top >= MAX_VALUES - MAX_PARTS) {
+                fault = fault == 0 ? FAULT_ROOM : fault;
             } else {
                 values[top] = t;
                 names[top] = NONE;
@@ -1443,215 +1633,30 @@ public final class TheoryCourt {
             }
         }
 
-        /** Parts are the values from floor on. */
-        private int make(int kind, int number, int sort, int floor, int count) {
-            int t = terms.make(kind, number, sort, values, floor, count);
-            if (t == NONE || !defining && terms.isOverfull()) {
-                failRoom();
-                return NONE;
-            }
-            return t;
-        }
-    }
-
-    /** Carries commands out; one with a fault leaves all as it was. */
-    private static final class Clerk {
-        private final Text text;
-        private final Symbols symbols;
-        private final Terms terms;
-        private final Docket docket;
-        private final Reader reader;
-        private final int[] sorts = new int[MAX_TAKES];
-        private final int[] parameters = new int[MAX_TAKES];
-        private int taken = 0;
-        private int cursor = 0;
-
-        Clerk(Text text, Symbols symbols, Terms terms, Docket docket) {
-            this.text = text;
-            this.symbols = symbols;
-            this.terms = terms;
-            this.docket = docket;
-            this.reader = new Reader(text, symbols, terms);
+        /** A term is to be made; its parts are the values from top on. */
+        private void ask(int kind, int number, int sort, int count) {
+            askedKind = kind;
+            askedNumber = number;
+            askedSort = sort;
+            askedParts = count;
         }
 
-        int failedAt() {
-            return reader.faultPlace;
-        }
-
-        int execute() {
-            int termsBefore = terms.size;
-            int word = text.operandOf(1);
-            reader.begin(word == W_DEFINE_FUN);
-            int answer = NONE;
-            switch (word) {
-                case W_DECLARE_CONST:
-                    answer = declareConst();
-                    break;
-                case W_DECLARE_FUN:
-                    answer = declareFun();
-                    break;
-                case W_DEFINE_FUN:
-                    answer = defineFun();
-                    terms.size = termsBefore;
-                    break;
-                case W_ASSERT:
-                    answer = assertTerm();
-                    break;
-                case W_TERM:
-                    answer = reader.readTerm(2, text.tokens - 1);
-                    break;
-                case W_PUSH:
-                    answer = pushLevel();
-                    break;
-                default:
-                    answer = popLevel();
-                    break;
+        private void makeAsked() {
+            int kind = askedKind;
+            askedKind = NONE;
+            if (fault == 0) {
+                push(terms.make(kind, askedNumber, askedSort, values, top, askedParts));
             }
-            if (reader.fault != 0) {
-                terms.size = termsBefore;
-                return -100 - reader.fault;
+            if (fault == 0 && !defining && terms.isOverfull()) {
+                fault = FAULT_ROOM;
             }
-            return answer;
-        }
-
-        private int pushLevel() {
-            if (!docket.open(symbols, terms)) {
-                reader.failRoom();
-            }
-            return docket.levels;
-        }
-
-        private int popLevel() {
-            if (!docket.shut(symbols, terms)) {
-                reader.fail(FAULT_POP, 1);
-            }
-            return docket.levels;
-        }
-
-        private int assertTerm() {
-            int t = reader.readTerm(2, text.tokens - 1);
-            if (reader.fault != 0) {
-                return NONE;
-            }
-            if (terms.sort[t] != BOOL) {
-                reader.fail(FAULT_SORT, 2);
-                return NONE;
-            }
-            int i = docket.add(t);
-            if (i == NONE) {
-                reader.failRoom();
-            }
-            return i;
-        }
-
-        private int declareConst() {
-            lookAtName();
-            cursor = 3;
-            return addSymbol(readSort());
-        }
-
-        private int declareFun() {
-            lookAtName();
-            cursor = 4;
-            for (int i = 0; i < MAX_TOKENS && text.typeOf(cursor) != T_CLOSE; i++) {
-                int first = cursor;
-                int sort = readSort();
-                if (taken >= MAX_TAKES) {
-                    reader.fail(FAULT_PARTS, first);
-                } else if (sort != INT) {
-                    reader.fail(FAULT_SORT, first);
-                } else {
-                    sorts[taken] = sort;
-                    taken++;
-                }
-            }
-            cursor++;
-            int first = cursor;
-            int gives = readSort();
-            if (taken > 0 && gives == ARRAY) {
-                reader.fail(FAULT_SORT, first);
-            }
-            return addSymbol(gives);
-        }
-
-        private int defineFun() {
-            lookAtName();
-            cursor = 4;
-            readParameters();
-            cursor++;
-            int gives = readSort();
-            for (int i = 1; i < taken; i++) {
-                lookForTwin(i);
-            }
-            for (int i = 0; i < taken && reader.fault == 0; i++) {
-                reader.addParameter(parameters[i], i, sorts[i]);
-            }
-            int first = cursor;
-            int last = text.tokens - 1;
-            int t = reader.readTerm(first, last);
-            if (reader.fault == 0 && terms.sort[t] != gives) {
-                reader.fail(FAULT_SORT, first);
-            }
-            int s = addSymbol(gives);
-            if (reader.fault == 0) {
-                symbols.define(s, text.code, first, last);
-            }
-            return s;
-        }
-
-        private void readParameters() {
-            for (int i = 0; i < MAX_TOKENS && text.typeOf(cursor) == T_OPEN; i++) {
-                int first = cursor;
-                cursor += 2;
-                int sort = readSort();
-                cursor++;
-                if (taken >= MAX_TAKES) {
-                    reader.fail(FAULT_PARTS, first);
-                } else {
-                    parameters[taken] = first + 1;
-                    sorts[taken] = sort;
-                    taken++;
-                }
-            }
-        }
-
-        private void lookForTwin(int i) {
-            for (int j = 0; j < i; j++) {
-                if (text.sameName(parameters[j], parameters[i])) {
-                    reader.fail(FAULT_TWICE, parameters[i]);
-                }
-            }
-        }
-
-        private void lookAtName() {
-            taken = 0;
-            if (symbols.find(text, 2) != NONE) {
-                reader.fail(FAULT_TWICE, 2);
-            }
-        }
-
-        private int readSort() {
-            int first = cursor;
-            if (text.typeOf(first) == T_OPEN) {
-                cursor += 5;
-                return ARRAY;
-            }
-            cursor++;
-            return text.operandOf(first) == W_INT ? INT : BOOL;
-        }
-
-        private int addSymbol(int gives) {
-            if (symbols.size >= MAX_SYMBOLS) {
-                reader.failRoom();
-            }
-            return reader.fault == 0 ? symbols.add(text, 2, sorts, taken, gives) : NONE;
         }
     }
 
     /** One case of a search: how far units lie apart at most, and what is settled of Bools and equations. */
     private static final class State {
         static final int FREE = Integer.MAX_VALUE;
-        static final int WIDTH = 7;
+        static final int WIDTH = MAX_INT_UNITS + 1;
 
         /** At i * WIDTH + j: how much number i is above number j at most; number 0 is 0 itself. */
         final int[] above = new int[WIDTH * WIDTH];
@@ -1728,9 +1733,9 @@ public final class TheoryCourt {
         final int[] node = new int[MAX_TERMS];
         final int[] bit = new int[MAX_TERMS];
         final int[] firstEquation = new int[MAX_TERMS];
-        final int[] left = new int[Terms.ROOM[Terms.EQUATIONS]];
-        final int[] right = new int[Terms.ROOM[Terms.EQUATIONS]];
-        final int[] units = new int[Terms.ROOM[Terms.INT_UNITS] + Terms.ROOM[Terms.BOOL_UNITS]];
+        final int[] left = new int[MAX_EQUATIONS];
+        final int[] right = new int[MAX_EQUATIONS];
+        final int[] units = new int[MAX_INT_UNITS + MAX_BOOL_UNITS];
         final int[] roots = new int[MAX_ASSERTIONS + 1];
         final int[] wanted = new int[MAX_ASSERTIONS + 1];
         int usedCount = 0;
@@ -2056,94 +2061,52 @@ public final class TheoryCourt {
             return can;
         }
 
-        boolean isSettled(State s, int a, int b) {
+        boolean isOpen(State s, int a, int b) {
             int can = possible(s, a, b);
-            return can == BELOW || can == ALIKE || can == ABOVE;
+            return can != BELOW && can != ALIKE && can != ABOVE;
         }
 
-        int firstFailed() {
+        /** Something must be decided here: a term, an equation, or how two terms lie. */
+        void blame(int kind, int a, int b) {
+            flaw = kind;
+            flawA = a;
+            flawB = b;
+            flawAccepts = ALIKE;
+        }
+
+        /** What is demanded and is not so is a flaw. */
+        void findFailed() {
             for (int i = 0; i < question.rootCount; i++) {
                 if (actual[question.roots[i]] != question.wanted[i]) {
-                    return question.roots[i];
+                    blame(FLAW_OPEN, question.roots[i], NONE);
+                    return;
                 }
             }
-            return NONE;
         }
 
-        /** From an open Bool term down to something that can be settled: that is the flaw then. */
-        void trace(State s, int from) {
-            int t = from;
-            flaw = FLAW_DEAD;
-            for (int i = 0; i < MAX_TERMS && t != NONE; i++) {
-                t = below(s, t);
-            }
-        }
-
-        /** The open term to look at below an open term; NONE when the flaw is found. */
-        private int below(State s, int t) {
-            int kind = terms.kind[t];
-            if (kind <= APPLICATION) {
-                flaw = FLAW_BOOL;
-                flawA = t;
-                return NONE;
-            }
-            if (kind == ITE) {
-                int condition = sure[terms.part(t, 0)];
-                return terms.part(t, condition == OPEN_VERDICT ? 0 : 2 - condition);
-            }
-            int side = terms.parts[t] > 0 ? terms.sort[terms.part(t, 0)] : NONE;
-            if (side == BOOL) {
-                return openPart(t);
-            }
-            if (side == INT) {
-                return openPair(s, t);
-            }
-            if (side == ARRAY) {
-                findOpenEquation(s, t);
-            }
-            return NONE;
-        }
-
-        /** An open part, if there is one that agrees with the whole: to turn that is most likely to help. */
-        private int openPart(int t) {
-            int found = NONE;
-            for (int i = terms.parts[t] - 1; i >= 0; i--) {
-                int part = terms.part(t, i);
-                if (sure[part] == OPEN_VERDICT && (found == NONE || actual[part] == actual[t])) {
-                    found = part;
-                }
-            }
-            return found;
-        }
-
-        private int openPair(State s, int t) {
-            int accepts = ACCEPTS[terms.kind[t] - EQUAL];
-            int a = NONE;
-            int b = NONE;
-            for (int i = terms.parts[t] - 1; i >= 0; i--) {
-                for (int j = terms.lastPartner(t, i); j > i; j--) {
-                    int can = possible(s, terms.part(t, i), terms.part(t, j));
-                    boolean open = (can & accepts) != 0 && (can & ~accepts) != 0;
-                    boolean wrong = (relation(terms.part(t, i), terms.part(t, j)) & accepts) == 0;
-                    if (open && (a == NONE || wrong)) {
-                        a = terms.part(t, i);
-                        b = terms.part(t, j);
+        /** Goes down from what is to blame to something that can be decided. */
+        void narrow(State s) {
+            for (int i = 0; i < 2 * MAX_TERMS; i++) {
+                if (flaw == FLAW_OPEN) {
+                    lookBelow(s, flawA);
+                } else if (flaw == FLAW_PAIR || flaw == FLAW_MERGE) {
+                    int condition = awaited(flawA, flawB);
+                    if (condition == NONE) {
+                        return;
                     }
+                    blame(FLAW_OPEN, condition, NONE);
+                } else {
+                    return;
                 }
             }
-            return a == NONE ? NONE : aimAtPair(a, b, accepts);
         }
 
-        /** Two Int terms are the flaw, unless a condition must be settled ahead of that: it is told then. */
-        private int aimAtPair(int a, int b, int accepts) {
-            int condition = awaited(a, b);
-            if (condition == NONE) {
-                flaw = FLAW_PAIR;
-                flawA = a;
-                flawB = b;
-                flawAccepts = accepts;
+        /** The open condition that one of two Int terms hangs on; NONE when both are located. */
+        int awaited(int a, int b) {
+            if (base[a] == NONE) {
+                return openCondition(a);
             }
-            return condition;
+            return base[b] == NONE ? openCondition(b) : NONE;
         }
 
         private int openCondition(int from) {
@@ -2162,42 +2125,64 @@ public final class TheoryCourt {
             return NONE;
         }
 
-        private void findOpenEquation(State s, int t) {
-            int last = question.firstEquation[t];
-            for (int i = 0; i < terms.parts[t]; i++) {
-                for (int j = i + 1; j <= terms.lastPartner(t, i); j++) {
-                    if (flaw == FLAW_DEAD && (s.equalKnown >> last & 1) == 0) {
-                        flaw = FLAW_EQUATION;
-                        flawA = last;
+        /** An open term is open for one of its parts, for two of them, or by itself. */
+        private void lookBelow(State s, int t) {
+            int side = terms.parts[t] > 0 ? terms.sort[terms.part(t, 0)] : NONE;
+            flaw = FLAW_DEAD;
+            if (terms.kind[t] == NAME || terms.kind[t] == APPLICATION) {
+                blame(FLAW_BOOL, t, NONE);
+            } else if (terms.kind[t] == ITE) {
+                int condition = sure[terms.part(t, 0)];
+                blame(FLAW_OPEN, terms.part(t, condition == OPEN_VERDICT ? 0 : 2 - condition), NONE);
+            } else if (side == BOOL) {
+                blameOpenPart(t);
+            } else if (side == INT) {
+                blameOpenPair(s, t);
+            } else if (side == ARRAY) {
+                blameOpenEquation(s, t);
+            }
+        }
+
+        /** To turn an open part that agrees with the whole is most likely to turn the whole. */
+        private void blameOpenPart(int t) {
+            int found = NONE;
+            for (int i = terms.parts[t] - 1; i >= 0; i--) {
+                int part = terms.part(t, i);
+                if (sure[part] == OPEN_VERDICT && (found == NONE || actual[part] == actual[t])) {
+                    found = part;
+                }
+            }
+            if (found != NONE) {
+                blame(FLAW_OPEN, found, NONE);
+            }
+        }
+
+        private void blameOpenPair(State s, int t) {
+            int accepts = ACCEPTS[terms.kind[t] - EQUAL];
+            for (int i = terms.parts[t] - 1; i >= 0; i--) {
+                for (int j = terms.lastPartner(t, i); j > i; j--) {
+                    int a = terms.part(t, i);
+                    int b = terms.part(t, j);
+                    int can = possible(s, a, b);
+                    boolean open = (can & accepts) != 0 && (can & ~accepts) != 0;
+                    if (open && (flaw == FLAW_DEAD || (relation(a, b) & accepts) == 0)) {
+                        blame(FLAW_PAIR, a, b);
+                        flawAccepts = accepts;
                     }
-                    last++;
                 }
             }
         }
 
-        /** How a lies to b is the flaw, or an open condition that one of them hangs on. */
-        void blamePair(State s, int a, int b) {
-            flaw = FLAW_DEAD;
-            int condition = aimAtPair(a, b, ALIKE);
-            if (condition != NONE) {
-                trace(s, condition);
+        private void blameOpenEquation(State s, int t) {
+            int e = question.firstEquation[t];
+            for (int i = 0; i < terms.parts[t]; i++) {
+                for (int j = i + 1; j <= terms.lastPartner(t, i); j++) {
+                    if (flaw == FLAW_DEAD && (s.equalKnown >> e & 1) == 0) {
+                        blame(FLAW_EQUATION, e, NONE);
+                    }
+                    e++;
+                }
             }
-        }
-
-        /** The two must be the same number in this case. */
-        void blameMerge(State s, int a, int b) {
-            blamePair(s, a, b);
-            if (flaw == FLAW_PAIR) {
-                flaw = FLAW_MERGE;
-            }
-        }
-
-        /** The open condition that one of two Int terms hangs on; NONE when both are located. */
-        int awaited(int a, int b) {
-            if (base[a] == NONE) {
-                return openCondition(a);
-            }
-            return base[b] == NONE ? openCondition(b) : NONE;
         }
     }
 
@@ -2212,11 +2197,11 @@ public final class TheoryCourt {
         private final Terms terms;
         private final Question question;
         private final Judge judge;
-        private final int[] arrays = new int[Terms.ROOM[Terms.ARRAYS]];
-        private final int[] places = new int[Terms.ROOM[Terms.PLACES]];
+        private final int[] arrays = new int[MAX_ARRAYS];
+        private final int[] places = new int[MAX_PLACES];
         private final int[] row = new int[MAX_TERMS];
-        private final int[] parent = new int[Terms.ROOM[Terms.ARRAYS] * WIDTH];
-        private final int[] content = new int[Terms.ROOM[Terms.ARRAYS] * WIDTH];
+        private final int[] parent = new int[MAX_ARRAYS * WIDTH];
+        private final int[] content = new int[MAX_ARRAYS * WIDTH];
         private int arrayCount = 0;
         private int placeCount = 0;
         private int clashA = NONE;
@@ -2265,9 +2250,10 @@ public final class TheoryCourt {
             return 0;
         }
 
-        boolean isFlawed(State s) {
+        /** What the arrays cannot be is a flaw. */
+        void findFlaw(State s) {
             if (arrayCount == 0) {
-                return false;
+                return;
             }
             for (int i = 0; i < parent.length; i++) {
                 parent[i] = i;
@@ -2276,17 +2262,27 @@ public final class TheoryCourt {
             clashA = NONE;
             joinAlike(s);
             fill();
-            if (clashA != NONE) {
-                blameClash(s);
-                return true;
+            int e = clashA == NONE ? firstAlike(s) : NONE;
+            if (e != NONE && (s.equalKnown >> e & 1) == 0) {
+                judge.blame(FLAW_EQUATION, e, NONE);
+            } else if (e != NONE || clashA != NONE) {
+                blameShape(s);
             }
+            if (judge.flaw == 0 && clashA != NONE) {
+                judge.blame(FLAW_MERGE, clashA, clashB);
+            } else if (judge.flaw == 0 && e != NONE) {
+                blameContents(s, e);
+            }
+        }
+
+        /** The first equation that is false, though its rows must be alike; NONE. */
+        private int firstAlike(State s) {
             for (int e = 0; e < question.equations; e++) {
                 if ((s.equalTrue >> e & 1) == 0 && !canDiffer(e)) {
-                    blameEquation(s, e);
-                    return true;
+                    return e;
                 }
             }
-            return false;
+            return NONE;
         }
 
         /** Rows that are one by an ITE, a STORE or an equation share their slots. */
@@ -2365,50 +2361,35 @@ public final class TheoryCourt {
             return t != NONE && u != NONE && judge.actual[t] == judge.actual[u];
         }
 
-        private void blameClash(State s) {
-            if (!blameShape(s)) {
-                judge.blameMerge(s, clashA, clashB);
-            }
-        }
-
-        private void blameEquation(State s, int e) {
-            if ((s.equalKnown >> e & 1) == 0) {
-                judge.flaw = FLAW_EQUATION;
-                judge.flawA = e;
-            } else if (!blameShape(s)) {
-                blameContents(s, e);
-            }
-        }
-
-        /** Which slots are one hangs on conditions of ITEs and on how places lie: are all these settled? */
-        private boolean blameShape(State s) {
+        /** Which slots are one hangs on conditions of ITEs and on how places lie: is one of these open? */
+        private void blameShape(State s) {
             for (int i = 0; i < arrayCount; i++) {
                 int t = arrays[i];
                 if (terms.kind[t] == ITE && judge.sure[terms.part(t, 0)] == OPEN_VERDICT) {
-                    judge.trace(s, terms.part(t, 0));
-                    return true;
+                    judge.blame(FLAW_OPEN, terms.part(t, 0), NONE);
+                    return;
                 }
             }
             for (int i = 0; i < placeCount; i++) {
                 for (int j = 0; j < i; j++) {
-                    if (!judge.isSettled(s, places[i], places[j])) {
-                        judge.blamePair(s, places[i], places[j]);
-                        return true;
+                    if (judge.isOpen(s, places[i], places[j])) {
+                        judge.blame(FLAW_PAIR, places[i], places[j]);
+                        return;
                     }
                 }
             }
-            return false;
         }
 
+        /** The two rows must differ at a place that matters: contents that may yet do so are to blame. */
         private void blameContents(State s, int e) {
             judge.flaw = FLAW_DEAD;
             int a = row[question.left[e]];
             int b = row[question.right[e]];
             for (int c = 0; c < placeCount; c++) {
-                int one = find(a * WIDTH + column(places[c]));
-                int other = find(b * WIDTH + column(places[c]));
-                if (one != other && !judge.isSettled(s, content[one], content[other])) {
-                    judge.blamePair(s, content[one], content[other]);
+                int one = content[find(a * WIDTH + column(places[c]))];
+                int other = content[find(b * WIDTH + column(places[c]))];
+                if (one != NONE && other != NONE && judge.isOpen(s, one, other)) {
+                    judge.blame(FLAW_PAIR, one, other);
                     return;
                 }
             }
@@ -2421,8 +2402,10 @@ public final class TheoryCourt {
         static final int ENDLESS = 200000000;
         /** What is aimed at without a bound; the terms' own numbers take a little of it away. */
         private static final int AIM = 400000000;
+        /** No run needs half as many: each split settles one of some 120 things for good. */
         private static final int MAX_STATES = 512;
-        private static final int MAX_CASES = 100000000;
+        private static final int MAX_SPLIT = 3;
+        private static final int MAX_CASES = 10000000;
 
         private final Terms terms;
         private final Question question;
@@ -2435,6 +2418,8 @@ public final class TheoryCourt {
         private State current = new State();
         private int top = 0;
         private int mode = SEEK_ANY;
+        private int high = NONE;
+        private int low = NONE;
         private boolean found = false;
         long most = 0;
         long seenTrue = 0;
@@ -2448,22 +2433,33 @@ public final class TheoryCourt {
         }
 
         /** Any model, the least one, or one in which one term is above another the most. */
-        boolean seek(int what, int high, int low) {
+        boolean seek(int what, int upper, int lower) {
             mode = what;
+            high = upper;
+            low = lower;
             found = false;
             top = 0;
             slots.gather();
             pushFirst();
             for (int i = 0; i < MAX_CASES && top > 0; i++) {
                 takeNext();
-                if (isPromising(high, low)) {
+                if (isAhead() && judge.assess(current) && isHighEnough()) {
                     judge.evaluate(current);
-                    if (!isFlawed()) {
-                        keep(high, low);
+                    if (judge.flaw == 0) {
+                        judge.findFailed();
                     }
-                }
-                if (judge.flaw != 0) {
-                    split();
+                    if (judge.flaw == 0) {
+                        findTornFunction();
+                    }
+                    if (judge.flaw == 0) {
+                        slots.findFlaw(current);
+                    }
+                    if (judge.flaw == 0) {
+                        keep();
+                    } else {
+                        judge.narrow(current);
+                        split();
+                    }
                 }
                 if (found && (mode == SEEK_ANY || mode == SEEK_MOST && most >= ENDLESS)) {
                     return true;
@@ -2473,7 +2469,11 @@ public final class TheoryCourt {
         }
 
         private void pushFirst() {
-            State s = fresh();
+            makeRoom();
+            State s = waiting[0];
+            if (s == null) {
+                return;
+            }
             s.reset();
             for (int e = 0; e < question.equations; e++) {
                 if (question.left[e] == question.right[e]) {
@@ -2481,53 +2481,53 @@ public final class TheoryCourt {
                     s.equalTrue |= 1 << e;
                 }
             }
-            pushState();
+            top = 1;
         }
 
-        private State fresh() {
-            int at = Math.min(top, MAX_STATES - 1);
-            State s = waiting[at];
-            if (s == null) {
-                s = new State();
-                waiting[at] = s;
+        /** As many states as one case can fall into are there; each is made once, and used again. */
+        private void makeRoom() {
+            for (int i = top; i < top + MAX_SPLIT && i < MAX_STATES; i++) {
+                if (waiting[i] == null) {
+                    waiting[i] = new State();
+                }
             }
-            return s;
         }
 
+        /** The waiting case on top becomes the current one; the state of the one before waits in its stead. */
         private void takeNext() {
+            makeRoom();
             top--;
-            State s = fresh();
-            waiting[top] = current;
-            current = s;
+            State s = waiting[top];
+            if (s != null) {
+                waiting[top] = current;
+                current = s;
+            }
             judge.flaw = 0;
         }
 
-        /** Whether a model that counts may be in this case; in search of the most it may have to be split. */
-        private boolean isPromising(int high, int low) {
-            if (mode == SEEK_LEAST && found && compareStates(current, best) >= 0) {
-                return false;
-            }
-            if (!judge.assess(current)) {
-                return false;
-            }
-            return mode != SEEK_MOST || isHigh(high, low);
+        /** In search of the least: whether this case's numbers come ahead of the best ones so far. */
+        private boolean isAhead() {
+            return mode != SEEK_LEAST || !found || compareNumbers(current, best) < 0;
         }
 
-        private boolean isHigh(int high, int low) {
+        /** In search of the most: aims at the greatest gap, if it is above the best one so far. */
+        private boolean isHighEnough() {
+            if (mode != SEEK_MOST) {
+                return true;
+            }
             int condition = judge.awaited(high, low);
             if (condition != NONE) {
-                judge.evaluate(current);
-                judge.trace(current, condition);
-                return false;
+                judge.blame(FLAW_OPEN, condition, NONE);
+                return true;
             }
             int h = judge.base[high];
             int l = judge.base[low];
-            int reach = Math.min(current.above[h * State.WIDTH + l], AIM);
-            if (found && (long) reach + judge.offset[high] - judge.offset[low] <= most) {
+            int gap = Math.min(current.above[h * State.WIDTH + l], AIM);
+            if (found && (long) gap + judge.offset[high] - judge.offset[low] <= most) {
                 return false;
             }
             aim.copyFrom(current);
-            if (!aim.bound(l, h, -reach, question.nodes)) {
+            if (!aim.bound(l, h, -gap, question.nodes)) {
                 return false;
             }
             aim.choose(question.nodes);
@@ -2535,16 +2535,8 @@ public final class TheoryCourt {
             return true;
         }
 
-        private boolean isFlawed() {
-            int root = judge.firstFailed();
-            if (root != NONE) {
-                judge.trace(current, root);
-                return true;
-            }
-            return areFunctionsFlawed() || slots.isFlawed(current);
-        }
-
-        private boolean areFunctionsFlawed() {
+        /** A function that gives two numbers for the same parts is a flaw. */
+        private void findTornFunction() {
             for (int i = 0; i < question.unitCount; i++) {
                 int a = question.units[i];
                 for (int j = 0; terms.kind[a] == APPLICATION && j < i; j++) {
@@ -2552,11 +2544,10 @@ public final class TheoryCourt {
                     if (terms.kind[b] == APPLICATION && terms.number[a] == terms.number[b]
                             && judge.actual[a] != judge.actual[b] && haveSameParts(a, b)) {
                         blameFunction(a, b);
-                        return true;
+                        return;
                     }
                 }
             }
-            return false;
         }
 
         private boolean haveSameParts(int a, int b) {
@@ -2570,22 +2561,22 @@ public final class TheoryCourt {
 
         private void blameFunction(int a, int b) {
             for (int i = 0; i < terms.parts[a]; i++) {
-                if (!judge.isSettled(current, terms.part(a, i), terms.part(b, i))) {
-                    judge.blamePair(current, terms.part(a, i), terms.part(b, i));
+                if (judge.isOpen(current, terms.part(a, i), terms.part(b, i))) {
+                    judge.blame(FLAW_PAIR, terms.part(a, i), terms.part(b, i));
                     return;
                 }
             }
             if (terms.sort[a] == INT) {
-                judge.blameMerge(current, a, b);
-                return;
+                judge.blame(FLAW_MERGE, a, b);
+            } else if (judge.sure[a] == OPEN_VERDICT) {
+                judge.blame(FLAW_BOOL, a, NONE);
+            } else {
+                judge.blame(judge.sure[b] == OPEN_VERDICT ? FLAW_BOOL : FLAW_DEAD, b, NONE);
             }
-            boolean openA = judge.sure[a] == OPEN_VERDICT;
-            judge.flaw = openA || judge.sure[b] == OPEN_VERDICT ? FLAW_BOOL : FLAW_DEAD;
-            judge.flawA = openA ? a : b;
         }
 
         /** The current case is a model: it is the best one so far. */
-        private void keep(int high, int low) {
+        private void keep() {
             if (mode == SEEK_MOST) {
                 long gap = (long) judge.actual[high] - judge.actual[low];
                 most = found ? Math.max(most, gap) : gap;
@@ -2607,6 +2598,9 @@ public final class TheoryCourt {
         private void split() {
             int bottom = top;
             int now = judge.flawA;
+            if (top + MAX_SPLIT > MAX_STATES) {
+                return;
+            }
             switch (judge.flaw) {
                 case FLAW_BOOL:
                     pushBool(question.bit[now], judge.actual[now]);
@@ -2617,7 +2611,10 @@ public final class TheoryCourt {
                     pushEquation(now, 1);
                     break;
                 case FLAW_PAIR:
-                    splitPair();
+                    int is = judge.relation(judge.flawA, judge.flawB);
+                    pushPair(relationAt(is, 0));
+                    pushPair(relationAt(is, 1));
+                    pushPair(relationAt(is, 2));
                     break;
                 case FLAW_MERGE:
                     pushPair(ALIKE);
@@ -2630,38 +2627,47 @@ public final class TheoryCourt {
             }
         }
 
-        private void splitPair() {
+        /** A pair's cases, what it is now ahead of what it should be; an order has two of them, and a 0. */
+        private int relationAt(int is, int which) {
             int accepts = judge.flawAccepts;
-            int is = judge.relation(judge.flawA, judge.flawB);
             if (accepts != ALIKE && accepts != (BELOW | ABOVE)) {
-                boolean holds = (accepts & is) != 0;
-                pushPair(holds ? accepts : ANYHOW - accepts);
-                pushPair(holds ? ANYHOW - accepts : accepts);
-                return;
+                int same = (accepts & is) != 0 ? accepts : ANYHOW - accepts;
+                return which == 0 ? same : which == 1 ? ANYHOW - same : 0;
             }
-            pushPair(is);
-            pushPair(is == ABOVE ? BELOW : ABOVE);
-            pushPair(is == ALIKE ? BELOW : ALIKE);
+            if (which == 0) {
+                return is;
+            }
+            if (which == 1) {
+                return is == ABOVE ? BELOW : ABOVE;
+            }
+            return is == ALIKE ? BELOW : ALIKE;
         }
 
         private void pushBool(int bit, int so) {
-            State s = fresh();
-            s.copyFrom(current);
-            s.boolKnown |= 1 << bit;
-            s.boolTrue |= so << bit;
-            pushState();
+            State s = waiting[top];
+            if (s != null) {
+                s.copyFrom(current);
+                s.boolKnown |= 1 << bit;
+                s.boolTrue |= so << bit;
+                top++;
+            }
         }
 
         private void pushEquation(int e, int so) {
-            State s = fresh();
-            s.copyFrom(current);
-            s.equalKnown |= 1 << e;
-            s.equalTrue |= so << e;
-            pushState();
+            State s = waiting[top];
+            if (s != null) {
+                s.copyFrom(current);
+                s.equalKnown |= 1 << e;
+                s.equalTrue |= so << e;
+                top++;
+            }
         }
 
         private void pushPair(int relation) {
-            State s = fresh();
+            State s = waiting[top];
+            if (relation == 0 || s == null) {
+                return;
+            }
             s.copyFrom(current);
             int a = judge.base[judge.flawA];
             int b = judge.base[judge.flawB];
@@ -2671,27 +2677,27 @@ public final class TheoryCourt {
             can = can && ((relation & BELOW) != 0 || s.bound(b, a, -gap - strict, question.nodes));
             if (can) {
                 s.choose(question.nodes);
-                pushState();
+                top++;
             }
         }
 
-        /** No run needs so many cases at once that the row ends. */
-        private void pushState() {
-            top = Math.min(top + 1, MAX_STATES - 1);
-        }
-
+        /** The one with the best numbers comes to the top. */
         private void sortWaiting(int bottom) {
             for (int i = bottom + 1; i < top; i++) {
-                for (int j = i; j > bottom && compareStates(waiting[j], waiting[j - 1]) > 0; j--) {
-                    State s = waiting[j];
-                    waiting[j] = waiting[j - 1];
-                    waiting[j - 1] = s;
+                for (int j = i; j > bottom; j--) {
+                    State upper = waiting[j];
+                    State lower = waiting[j - 1];
+                    if (upper == null || lower == null || compareNumbers(upper, lower) <= 0) {
+                        break;
+                    }
+                    waiting[j] = lower;
+                    waiting[j - 1] = upper;
                 }
             }
         }
 
         /** Below 0 if the first one's numbers, Bools and equations come ahead of the second one's. */
-        private int compareStates(State a, State b) {
+        private int compareNumbers(State a, State b) {
             for (int i = 0; i < question.unitCount; i++) {
                 int t = question.units[i];
                 int which = terms.sort[t] == INT ? question.node[t] : question.bit[t];
@@ -2721,7 +2727,6 @@ public final class TheoryCourt {
         private static final int ZERO = MAX_TERMS;
 
         private final Terms terms;
-        private final Docket docket;
         private final int[] draft = new int[MAX_CLAUSE];
         private final int[] steps = new int[MAX_STEPS * MAX_CLAUSE];
         private final int[] stepSize = new int[MAX_STEPS];
@@ -2731,9 +2736,8 @@ public final class TheoryCourt {
         int draftSize = 0;
         private int stepCount = 0;
 
-        Proof(Terms terms, Docket docket) {
+        Proof(Terms terms) {
             this.terms = terms;
-            this.docket = docket;
         }
 
         void dropAll() {
@@ -2807,7 +2811,7 @@ public final class TheoryCourt {
         private boolean isAllowed(int rule, int a, int b) {
             switch (rule) {
                 case 0:
-                    return docket.has(a) && inDraft(2 * docket.assertion[a]);
+                    return terms.isAssertion(a) && inDraft(2 * terms.assertion[a]);
                 case 1:
                     return isResolved(a, b);
                 case 2:
