@@ -1655,7 +1655,7 @@ public final class TheoryCourt {
 
     /** One case of a search: how far units lie apart at most, and what is settled of Bools and equations. */
     private static final class State {
-        static final int FREE = Integer.MAX_VALUE;
+        static final int FREE = 2147483647;
         static final int WIDTH = MAX_INT_UNITS + 1;
 
         /** At i * WIDTH + j: how much number i is above number j at most; number 0 is 0 itself. */
@@ -1763,7 +1763,9 @@ public final class TheoryCourt {
 
         /** All terms, or those below what is demanded and below two more, are what matters. */
         void gather(boolean all, int one, int other) {
-            Arrays.fill(matters, all);
+            for (int t = 0; t < MAX_TERMS; t++) {
+                matters[t] = all;
+            }
             for (int i = 0; i < rootCount; i++) {
                 matters[roots[i]] = true;
             }
@@ -1827,7 +1829,7 @@ public final class TheoryCourt {
     private static final class Judge {
         private final Terms terms;
         private final Question question;
-        final int[] sure = new int[MAX_TERMS];
+        final int[] certain = new int[MAX_TERMS];
         final int[] actual = new int[MAX_TERMS];
         /** By Int term: its unit's node, NONE while an ITE's condition is open, and what is added. */
         final int[] base = new int[MAX_TERMS];
@@ -1849,11 +1851,11 @@ public final class TheoryCourt {
                 if (terms.sort[t] == INT) {
                     locate(t);
                 } else if (terms.sort[t] == BOOL) {
-                    sure[t] = verdict(s, t, false);
+                    certain[t] = verdict(s, t, false);
                 }
             }
             for (int i = 0; i < question.rootCount; i++) {
-                if (sure[question.roots[i]] == 1 - question.wanted[i]) {
+                if (certain[question.roots[i]] == 1 - question.wanted[i]) {
                     return false;
                 }
             }
@@ -1888,7 +1890,7 @@ public final class TheoryCourt {
         private int chosenPart(int t) {
             int yes = terms.part(t, 1);
             int no = terms.part(t, 2);
-            int condition = sure[terms.part(t, 0)];
+            int condition = certain[terms.part(t, 0)];
             if (condition == OPEN_VERDICT) {
                 return base[yes] != NONE && base[yes] == base[no] && offset[yes] == offset[no] ? yes : NONE;
             }
@@ -1927,7 +1929,7 @@ public final class TheoryCourt {
                 case APPLICATION:
                     return told(s.boolKnown, s.boolTrue, question.bit[t], exact);
                 case ITE:
-                    return choice(t, exact ? actual : sure);
+                    return choice(t, exact ? actual : certain);
                 case TRUE:
                     return 1;
                 case FALSE:
@@ -1937,7 +1939,7 @@ public final class TheoryCourt {
             }
             int side = terms.sort[terms.part(t, 0)];
             if (side == BOOL) {
-                return connect(t, exact ? actual : sure);
+                return connect(t, exact ? actual : certain);
             }
             return side == INT ? compareAll(s, t, exact) : equateAll(s, t, exact);
         }
@@ -2116,10 +2118,10 @@ public final class TheoryCourt {
                     t = terms.part(t, 0);
                 } else if (terms.kind[t] != ITE) {
                     return NONE;
-                } else if (sure[terms.part(t, 0)] == OPEN_VERDICT) {
+                } else if (certain[terms.part(t, 0)] == OPEN_VERDICT) {
                     return terms.part(t, 0);
                 } else {
-                    t = terms.part(t, 2 - sure[terms.part(t, 0)]);
+                    t = terms.part(t, 2 - certain[terms.part(t, 0)]);
                 }
             }
             return NONE;
@@ -2132,7 +2134,7 @@ public final class TheoryCourt {
             if (terms.kind[t] == NAME || terms.kind[t] == APPLICATION) {
                 blame(FLAW_BOOL, t, NONE);
             } else if (terms.kind[t] == ITE) {
-                int condition = sure[terms.part(t, 0)];
+                int condition = certain[terms.part(t, 0)];
                 blame(FLAW_OPEN, terms.part(t, condition == OPEN_VERDICT ? 0 : 2 - condition), NONE);
             } else if (side == BOOL) {
                 blameOpenPart(t);
@@ -2148,7 +2150,7 @@ public final class TheoryCourt {
             int found = NONE;
             for (int i = terms.parts[t] - 1; i >= 0; i--) {
                 int part = terms.part(t, i);
-                if (sure[part] == OPEN_VERDICT && (found == NONE || actual[part] == actual[t])) {
+                if (certain[part] == OPEN_VERDICT && (found == NONE || actual[part] == actual[t])) {
                     found = part;
                 }
             }
@@ -2365,7 +2367,7 @@ public final class TheoryCourt {
         private void blameShape(State s) {
             for (int i = 0; i < arrayCount; i++) {
                 int t = arrays[i];
-                if (terms.kind[t] == ITE && judge.sure[terms.part(t, 0)] == OPEN_VERDICT) {
+                if (terms.kind[t] == ITE && judge.certain[terms.part(t, 0)] == OPEN_VERDICT) {
                     judge.blame(FLAW_OPEN, terms.part(t, 0), NONE);
                     return;
                 }
@@ -2568,10 +2570,10 @@ public final class TheoryCourt {
             }
             if (terms.sort[a] == INT) {
                 judge.blame(FLAW_MERGE, a, b);
-            } else if (judge.sure[a] == OPEN_VERDICT) {
+            } else if (judge.certain[a] == OPEN_VERDICT) {
                 judge.blame(FLAW_BOOL, a, NONE);
             } else {
-                judge.blame(judge.sure[b] == OPEN_VERDICT ? FLAW_BOOL : FLAW_DEAD, b, NONE);
+                judge.blame(judge.certain[b] == OPEN_VERDICT ? FLAW_BOOL : FLAW_DEAD, b, NONE);
             }
         }
 
@@ -3060,8 +3062,9 @@ public final class TheoryCourt {
             if (!hasEqual(a, b, 1)) {
                 return false;
             }
-            Arrays.fill(reached, false);
-            reached[a] = true;
+            for (int t = 0; t < MAX_TERMS; t++) {
+                reached[t] = t == a;
+            }
             for (int round = 0; round < draftSize; round++) {
                 for (int i = 0; i < draftSize; i++) {
                     int t = draft[i] >> 1;
