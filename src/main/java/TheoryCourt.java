@@ -85,7 +85,6 @@ public final class TheoryCourt {
     private static final int W_INT = 18;
     private static final int W_BOOL = 19;
     private static final int W_ARRAY = 20;
-    private static final int W_PLUS = 27;
     private static final int W_MINUS = 28;
 
     /** By word: the kind it makes (NONE: no OP), its least and most parts, and the sorts that it takes. */
@@ -1189,7 +1188,8 @@ public final class TheoryCourt {
             return sort[t] != ARRAY && kind[t] >= NAME && kind[t] <= SELECT;
         }
 
-        private int pairs(int t) {
+        /** How many pairs EQUAL to AT LEAST tell of. */
+        int pairs(int t) {
             return kind[t] == DISTINCT ? parts[t] * (parts[t] - 1) / 2 : parts[t] - 1;
         }
 
@@ -1708,6 +1708,13 @@ public final class TheoryCourt {
             return true;
         }
 
+        /** Number i lies to number j and a gap more as a relation tells; whether that can be. */
+        boolean relate(int i, int j, int gap, int relation, int nodes) {
+            int strict = (relation & ALIKE) == 0 ? 1 : 0;
+            boolean can = (relation & ABOVE) != 0 || bound(i, j, gap - strict, nodes);
+            return can && ((relation & BELOW) != 0 || bound(j, i, -gap - strict, nodes));
+        }
+
         /** One after the other gets the number nearest to 0 that the ones before it leave. */
         void choose(int nodes) {
             x[0] = 0;
@@ -1834,6 +1841,9 @@ public final class TheoryCourt {
         /** By Int term: its unit's node, NONE while an ITE's condition is open, and what is added. */
         final int[] base = new int[MAX_TERMS];
         final int[] offset = new int[MAX_TERMS];
+        private final int[] demand = new int[MAX_TERMS];
+        private boolean dead = false;
+        boolean moved = false;
         int flaw = 0;
         int flawA = 0;
         int flawB = 0;
@@ -1860,6 +1870,109 @@ public final class TheoryCourt {
                 }
             }
             return true;
+        }
+
+        /** What must be so makes more so, and that is settled in the case; whether it still can be. */
+        boolean spread(State s) {
+            dead = false;
+            moved = false;
+            for (int i = 0; i < question.usedCount; i++) {
+                demand[question.used[i]] = OPEN_VERDICT;
+            }
+            for (int i = 0; i < question.rootCount; i++) {
+                need(question.roots[i], question.wanted[i]);
+            }
+            for (int i = question.usedCount - 1; i >= 0 && !dead; i--) {
+                int t = question.used[i];
+                if (terms.sort[t] == BOOL && demand[t] != OPEN_VERDICT) {
+                    int side = terms.parts[t] > 0 ? terms.sort[terms.part(t, 0)] : NONE;
+                    if (terms.isUnit(t)) {
+                        s.boolKnown |= 1 << question.bit[t];
+                        s.boolTrue |= demand[t] << question.bit[t];
+                        moved = true;
+                    } else if (side == BOOL) {
+                        spreadToParts(t);
+                    } else if (side == INT) {
+                        spreadToPairs(s, t);
+                    } else if (side == ARRAY) {
+                        spreadToEquations(s, t);
+                    }
+                }
+            }
+            return !dead;
+        }
+
+        private void need(int t, int so) {
+            int is = certain[t] == OPEN_VERDICT ? demand[t] : certain[t];
+            if (is == OPEN_VERDICT) {
+                demand[t] = so;
+            } else if (is != so) {
+                dead = true;
+            }
+        }
+
+        /** An open part that would make the whole wrong, if it were so, must be the opposite. */
+        private void spreadToParts(int t) {
+            for (int i = 0; i < terms.parts[t]; i++) {
+                int part = terms.part(t, i);
+                for (int so = 0; so <= 1 && certain[part] == OPEN_VERDICT; so++) {
+                    certain[part] = so;
+                    int whole = terms.kind[t] == ITE ? choice(t, certain) : connect(t, certain);
+                    certain[part] = OPEN_VERDICT;
+                    if (whole == 1 - demand[t]) {
+                        need(part, 1 - so);
+                    }
+                }
+            }
+        }
+
+        /** All pairs must be so; or, if just one of them may not be so, that one must not. */
+        private void spreadToPairs(State s, int t) {
+            int accepts = ACCEPTS[terms.kind[t] - EQUAL];
+            int wanted = demand[t] == 1 ? accepts : ANYHOW - accepts;
+            if (demand[t] == 0 && countDoubtful(s, t) != 1) {
+                return;
+            }
+            for (int i = 0; i < terms.parts[t]; i++) {
+                for (int j = i + 1; j <= terms.lastPartner(t, i); j++) {
+                    int a = terms.part(t, i);
+                    int b = terms.part(t, j);
+                    int can = possible(s, a, b);
+                    int both = can & wanted;
+                    if (demand[t] == 1 && both == 0) {
+                        dead = true;
+                    } else if (both != 0 && both != can && both != (BELOW | ABOVE) && base[a] != NONE && base[b] != NONE) {
+                        moved = true;
+                        dead |= !s.relate(base[a], base[b], offset[b] - offset[a], both, question.nodes);
+                    }
+                }
+            }
+        }
+
+        /** How many pairs of a comparison may be wrong. */
+        private int countDoubtful(State s, int t) {
+            int accepts = ACCEPTS[terms.kind[t] - EQUAL];
+            int count = 0;
+            for (int i = 0; i < terms.parts[t]; i++) {
+                for (int j = i + 1; j <= terms.lastPartner(t, i); j++) {
+                    if ((possible(s, terms.part(t, i), terms.part(t, j)) & ~accepts) != 0) {
+                        count++;
+                    }
+                }
+            }
+            return count;
+        }
+
+        private void spreadToEquations(State s, int t) {
+            int count = terms.pairs(t);
+            int mask = (1 << count) - 1 << question.firstEquation[t];
+            int open = mask & ~s.equalKnown;
+            boolean equal = terms.kind[t] == EQUAL == (demand[t] == 1);
+            if (open != 0 && (demand[t] == 1 || (open & open - 1) == 0)) {
+                s.equalKnown |= open;
+                s.equalTrue |= equal ? open : 0;
+                moved = true;
+            }
         }
 
         private void locate(int t) {
@@ -2407,6 +2520,7 @@ public final class TheoryCourt {
         /** No run needs half as many: each split settles one of some 120 things for good. */
         private static final int MAX_STATES = 512;
         private static final int MAX_SPLIT = 3;
+        private static final int MAX_ROUNDS = 1000;
         private static final int MAX_CASES = 10000000;
 
         private final Terms terms;
@@ -2445,7 +2559,15 @@ public final class TheoryCourt {
             pushFirst();
             for (int i = 0; i < MAX_CASES && top > 0; i++) {
                 takeNext();
-                if (isAhead() && judge.assess(current) && isHighEnough()) {
+                boolean alive = isAhead();
+                for (int round = 0; round < MAX_ROUNDS && alive && judge.moved; round++) {
+                    alive = judge.assess(current) && judge.spread(current);
+                    if (alive && judge.moved) {
+                        current.choose(question.nodes);
+                        alive = isAhead();
+                    }
+                }
+                if (alive && isHighEnough()) {
                     judge.evaluate(current);
                     if (judge.flaw == 0) {
                         judge.findFailed();
@@ -2505,6 +2627,7 @@ public final class TheoryCourt {
                 current = s;
             }
             judge.flaw = 0;
+            judge.moved = true;
         }
 
         /** In search of the least: whether this case's numbers come ahead of the best ones so far. */
@@ -2671,13 +2794,8 @@ public final class TheoryCourt {
                 return;
             }
             s.copyFrom(current);
-            int a = judge.base[judge.flawA];
-            int b = judge.base[judge.flawB];
             int gap = judge.offset[judge.flawB] - judge.offset[judge.flawA];
-            int strict = relation == BELOW || relation == ABOVE ? 1 : 0;
-            boolean can = (relation & ABOVE) != 0 || s.bound(a, b, gap - strict, question.nodes);
-            can = can && ((relation & BELOW) != 0 || s.bound(b, a, -gap - strict, question.nodes));
-            if (can) {
+            if (s.relate(judge.base[judge.flawA], judge.base[judge.flawB], gap, relation, question.nodes)) {
                 s.choose(question.nodes);
                 top++;
             }
