@@ -120,11 +120,13 @@ public final class TheoryCourt {
     private static final int OPEN_VERDICT = 2;
 
     private static final int FLAW_DEAD = 1;
-    private static final int FLAW_BOOL = 2;
+    private static final int FLAW_SAME = 2;
     private static final int FLAW_EQUATION = 3;
     private static final int FLAW_PAIR = 4;
     private static final int FLAW_MERGE = 5;
     private static final int FLAW_OPEN = 6;
+    private static final int FLAW_CONDITION = 7;
+    private static final int FLAW_TIGHT = 8;
 
     private static final int SEEK_ANY = 0;
     private static final int SEEK_LEAST = 1;
@@ -1653,18 +1655,26 @@ public final class TheoryCourt {
         }
     }
 
-    /** One case of a search: how far units lie apart at most, and what is settled of Bools and equations. */
+    /**
+     * One case of a search: how far units lie apart at most, which settings are left, and what must be so.
+     * A setting tells of all Bool units and equations what they are, one bit for each; all that are left are
+     * held together, as bits of two words, so that a case need not be split for them.
+     */
     private static final class State {
         static final int FREE = 2147483647;
         static final int WIDTH = MAX_INT_UNITS + 1;
+        static final int WORDS = 2;
 
         /** At i * WIDTH + j: how much number i is above number j at most; number 0 is 0 itself. */
         final int[] above = new int[WIDTH * WIDTH];
         final int[] x = new int[WIDTH];
-        int boolKnown = 0;
-        int boolTrue = 0;
-        int equalKnown = 0;
-        int equalTrue = 0;
+        final long[] left = new long[WORDS];
+        /** The least setting that is left. */
+        int setting = 0;
+        /** By term: it must be true, it must be false; by pair: its two must not be alike. */
+        long mustHold = 0;
+        long mustFail = 0;
+        long unlike = 0;
 
         void reset() {
             Arrays.fill(above, FREE);
@@ -1672,19 +1682,54 @@ public final class TheoryCourt {
                 above[i * WIDTH + i] = 0;
             }
             Arrays.fill(x, 0);
-            boolKnown = 0;
-            boolTrue = 0;
-            equalKnown = 0;
-            equalTrue = 0;
+            unlike = 0;
         }
 
         void copyFrom(State other) {
             System.arraycopy(other.above, 0, above, 0, WIDTH * WIDTH);
             System.arraycopy(other.x, 0, x, 0, WIDTH);
-            boolKnown = other.boolKnown;
-            boolTrue = other.boolTrue;
-            equalKnown = other.equalKnown;
-            equalTrue = other.equalTrue;
+            System.arraycopy(other.left, 0, left, 0, WORDS);
+            setting = other.setting;
+            mustHold = other.mustHold;
+            mustFail = other.mustFail;
+            unlike = other.unlike;
+        }
+
+        boolean isEmpty() {
+            return (left[0] | left[1]) == 0;
+        }
+
+        /** Some settings that are left have a 1 at a position, and others a 0. */
+        boolean isDivided(int position) {
+            long ones = 0;
+            long zeros = 0;
+            for (int w = 0; w < WORDS; w++) {
+                ones |= left[w] & Question.settingsWith(position, w);
+                zeros |= left[w] & ~Question.settingsWith(position, w);
+            }
+            return ones != 0 && zeros != 0;
+        }
+
+        void leaveThoseWith(int position, int so) {
+            for (int w = 0; w < WORDS; w++) {
+                long ones = Question.settingsWith(position, w);
+                left[w] &= so == 1 ? ones : ~ones;
+            }
+        }
+
+        void leaveThoseAlike(int position, int other) {
+            for (int w = 0; w < WORDS; w++) {
+                left[w] &= ~(Question.settingsWith(position, w) ^ Question.settingsWith(other, w));
+            }
+        }
+
+        void takeLeastSetting() {
+            setting = 0;
+            if (left[0] != 0) {
+                setting = Long.numberOfTrailingZeros(left[0]);
+            } else if (left[1] != 0) {
+                setting = 64 + Long.numberOfTrailingZeros(left[1]);
+            }
         }
 
         /** Number i is at most c above number j from now on; whether that can be. */
@@ -1714,67 +1759,59 @@ public final class TheoryCourt {
             boolean can = (relation & ABOVE) != 0 || bound(i, j, gap - strict, nodes);
             return can && ((relation & BELOW) != 0 || bound(j, i, -gap - strict, nodes));
         }
-
-        /** One after the other gets the number nearest to 0 that the ones before it leave. */
-        void choose(int nodes) {
-            x[0] = 0;
-            for (int k = 1; k < nodes; k++) {
-                int low = -FREE;
-                int high = FREE;
-                for (int j = 0; j < k; j++) {
-                    int up = above[k * WIDTH + j];
-                    int down = above[j * WIDTH + k];
-                    high = up == FREE ? high : Math.min(high, x[j] + up);
-                    low = down == FREE ? low : Math.max(low, x[j] - down);
-                }
-                x[k] = low > 0 ? low : Math.min(high, 0);
-            }
-        }
     }
 
-    /** What a search is about: the terms that matter, their units and equations, and what must be so. */
+    /** What a search is about: the terms that matter, their units, equations and pairs, and what must be so. */
     private static final class Question {
+        /** Pairs that are found to matter get a bit each, while there are some. */
+        private static final int MAX_PAIRS = 64;
+        private static final long[] ONES = {0xAAAAAAAAAAAAAAAAL, 0xCCCCCCCCCCCCCCCCL, 0xF0F0F0F0F0F0F0F0L,
+            0xFF00FF00FF00FF00L, 0xFFFF0000FFFF0000L, 0xFFFFFFFF00000000L};
+
         private final Terms terms;
         private final boolean[] matters = new boolean[MAX_TERMS];
         final int[] used = new int[MAX_TERMS];
+        /** By unit: which node it is, of the Ints, or which bit, of the Bools. */
         final int[] node = new int[MAX_TERMS];
-        final int[] bit = new int[MAX_TERMS];
-        final int[] firstEquation = new int[MAX_TERMS];
+        /** By term of the kinds 14 to 19: its first equation, or its first one of the told pairs. */
+        final int[] first = new int[MAX_TERMS];
         final int[] left = new int[MAX_EQUATIONS];
         final int[] right = new int[MAX_EQUATIONS];
         final int[] units = new int[MAX_INT_UNITS + MAX_BOOL_UNITS];
-        final int[] roots = new int[MAX_ASSERTIONS + 1];
-        final int[] wanted = new int[MAX_ASSERTIONS + 1];
+        final int[] told = new int[MAX_COMPARISONS];
+        final int[] pairA = new int[MAX_PAIRS];
+        final int[] pairB = new int[MAX_PAIRS];
+        long mustHold = 0;
+        long mustFail = 0;
         int usedCount = 0;
         int nodes = 1;
         int bits = 0;
         int equations = 0;
         int unitCount = 0;
-        int rootCount = 0;
+        int toldCount = 0;
+        int pairCount = 0;
 
         Question(Terms terms) {
             this.terms = terms;
         }
 
         void begin() {
-            rootCount = 0;
+            mustHold = 0;
+            mustFail = 0;
         }
 
         void demand(int t, int so) {
-            if (rootCount < roots.length) {
-                roots[rootCount] = t;
-                wanted[rootCount] = so;
-                rootCount++;
+            if (so == 1) {
+                mustHold |= 1L << t;
+            } else {
+                mustFail |= 1L << t;
             }
         }
 
         /** All terms, or those below what is demanded and below two more, are what matters. */
         void gather(boolean all, int one, int other) {
             for (int t = 0; t < MAX_TERMS; t++) {
-                matters[t] = all;
-            }
-            for (int i = 0; i < rootCount; i++) {
-                matters[roots[i]] = true;
+                matters[t] = all || ((mustHold | mustFail) >> t & 1) == 1;
             }
             if (one >= 0 && other >= 0) {
                 matters[one] = true;
@@ -1790,6 +1827,8 @@ public final class TheoryCourt {
             bits = 0;
             equations = 0;
             unitCount = 0;
+            toldCount = 0;
+            pairCount = 0;
             for (int t = 0; t < terms.size; t++) {
                 if (matters[t]) {
                     enlist(t);
@@ -1807,28 +1846,79 @@ public final class TheoryCourt {
                     node[t] = nodes;
                     nodes++;
                 } else {
-                    bit[t] = bits;
+                    node[t] = bits;
                     bits++;
                 }
             }
-            if (isOfArrays(t)) {
-                enlistEquations(t);
-            }
-        }
-
-        private boolean isOfArrays(int t) {
-            return terms.kind[t] >= EQUAL && terms.sort[terms.part(t, 0)] == ARRAY;
-        }
-
-        private void enlistEquations(int t) {
-            firstEquation[t] = equations;
-            for (int i = 0; i < terms.parts[t]; i++) {
-                for (int j = i + 1; j <= terms.lastPartner(t, i) && equations < left.length; j++) {
-                    left[equations] = terms.part(t, i);
-                    right[equations] = terms.part(t, j);
-                    equations++;
+            if (terms.kind[t] >= EQUAL) {
+                int side = terms.sort[terms.part(t, 0)];
+                first[t] = side == ARRAY ? equations : toldCount;
+                for (int i = 0; side != BOOL && i < terms.parts[t]; i++) {
+                    enlistPairs(t, i, side);
                 }
             }
+        }
+
+        private void enlistPairs(int t, int i, int side) {
+            int a = terms.part(t, i);
+            for (int j = i + 1; j <= terms.lastPartner(t, i); j++) {
+                int b = terms.part(t, j);
+                if (side == ARRAY && equations < left.length) {
+                    left[equations] = a;
+                    right[equations] = b;
+                    equations++;
+                } else if (side == INT && toldCount < told.length) {
+                    told[toldCount] = pairOf(a, b);
+                    toldCount++;
+                }
+            }
+        }
+
+        /** The number of the pair of two Int terms, a new one if it has none; NONE when there is no room. */
+        int pairOf(int a, int b) {
+            for (int p = 0; p < pairCount; p++) {
+                if (pairA[p] == a && pairB[p] == b || pairA[p] == b && pairB[p] == a) {
+                    return p;
+                }
+            }
+            if (pairCount >= MAX_PAIRS) {
+                return NONE;
+            }
+            pairA[pairCount] = a;
+            pairB[pairCount] = b;
+            pairCount++;
+            return pairCount - 1;
+        }
+
+        /** The first unit has the highest bit, the last equation the lowest: the least setting comes first. */
+        int positionOf(int unit) {
+            return bits + equations - 1 - node[unit];
+        }
+
+        int positionOfEquation(int e) {
+            return equations - 1 - e;
+        }
+
+        /** The settings of a word that there are. */
+        long allSettings(int word) {
+            int width = bits + equations;
+            if (word > 0) {
+                return width > ONES.length ? -1L : 0L;
+            }
+            return width >= ONES.length ? -1L : (1L << (1 << width)) - 1;
+        }
+
+        /** The settings of a word that have a 1 at a position. */
+        static long settingsWith(int position, int word) {
+            if (position >= 0 && position < ONES.length) {
+                return ONES[position];
+            }
+            return word > 0 ? -1L : 0L;
+        }
+
+        /** How many words hold all settings. */
+        int words() {
+            return bits + equations > ONES.length ? 2 : 1;
         }
     }
 
@@ -1836,12 +1926,17 @@ public final class TheoryCourt {
     private static final class Judge {
         private final Terms terms;
         private final Question question;
+        /** By Bool term and word: the settings in which it may be true, and false. */
+        private final long[] yes = new long[MAX_TERMS * State.WORDS];
+        private final long[] no = new long[MAX_TERMS * State.WORDS];
+        /** By Bool term: what it is in all settings that are left. */
         final int[] certain = new int[MAX_TERMS];
         final int[] actual = new int[MAX_TERMS];
         /** By Int term: its unit's node, NONE while an ITE's condition is open, and what is added. */
         final int[] base = new int[MAX_TERMS];
         final int[] offset = new int[MAX_TERMS];
-        private final int[] demand = new int[MAX_TERMS];
+        /** Terms that are what they must be, whatever comes. */
+        private long settled = 0;
         private boolean dead = false;
         boolean moved = false;
         int flaw = 0;
@@ -1854,96 +1949,209 @@ public final class TheoryCourt {
             this.question = question;
         }
 
-        /** Finds what is sure; whether all that is demanded still can be. */
+        /** Finds what is sure, and which settings are left; whether there are some. */
         boolean assess(State s) {
+            long before = s.left[0];
+            long beforeThen = s.left[1];
+            settled = 0;
             for (int i = 0; i < question.usedCount; i++) {
                 int t = question.used[i];
                 if (terms.sort[t] == INT) {
                     locate(t);
                 } else if (terms.sort[t] == BOOL) {
-                    certain[t] = verdict(s, t, false);
+                    weigh(s, t);
+                    heed(s, t);
                 }
             }
-            for (int i = 0; i < question.rootCount; i++) {
-                if (certain[question.roots[i]] == 1 - question.wanted[i]) {
-                    return false;
+            moved = before != s.left[0] || beforeThen != s.left[1];
+            return !s.isEmpty();
+        }
+
+        /** Finds in which settings a Bool term may be true, and false. */
+        private void weigh(State s, int t) {
+            int kind = terms.kind[t];
+            int side = terms.parts[t] > 0 ? terms.sort[terms.part(t, 0)] : NONE;
+            int verdict = kind == TRUE ? 1 : 0;
+            if (kind >= EQUAL && side == INT) {
+                verdict = compareAll(s, t, false);
+            }
+            for (int w = 0; w < question.words(); w++) {
+                int at = t * State.WORDS + w;
+                long all = question.allSettings(w);
+                if (terms.isUnit(t)) {
+                    yes[at] = all & Question.settingsWith(question.positionOf(t), w);
+                    no[at] = all & ~yes[at];
+                } else if (kind == ITE) {
+                    weighChoice(t, w);
+                } else if (side == BOOL) {
+                    weighParts(t, w, all);
+                } else if (side == ARRAY) {
+                    yes[at] = all & equateAll(t, w);
+                    no[at] = all & ~yes[at];
+                } else {
+                    yes[at] = verdict == 0 ? 0 : all;
+                    no[at] = verdict == 1 ? 0 : all;
                 }
             }
-            return true;
+        }
+
+        private void weighChoice(int t, int w) {
+            int condition = terms.part(t, 0) * State.WORDS + w;
+            int one = terms.part(t, 1) * State.WORDS + w;
+            int other = terms.part(t, 2) * State.WORDS + w;
+            yes[t * State.WORDS + w] = yes[condition] & yes[one] | no[condition] & yes[other];
+            no[t * State.WORDS + w] = yes[condition] & no[one] | no[condition] & no[other];
+        }
+
+        private void weighParts(int t, int w, long all) {
+            int kind = terms.kind[t];
+            int count = terms.parts[t];
+            long allYes = all;
+            long allNo = all;
+            long someYes = 0;
+            long someNo = 0;
+            long odd = 0;
+            long even = all;
+            for (int i = 0; i < count; i++) {
+                int at = terms.part(t, i) * State.WORDS + w;
+                boolean turned = kind == NOT || kind == IMPLIES && i < count - 1;
+                long y = turned ? no[at] : yes[at];
+                long n = turned ? yes[at] : no[at];
+                long oddBefore = odd;
+                odd = odd & n | even & y;
+                even = even & n | oddBefore & y;
+                allYes &= y;
+                allNo &= n;
+                someYes |= y;
+                someNo |= n;
+            }
+            int at = t * State.WORDS + w;
+            switch (kind) {
+                case XOR:
+                    yes[at] = odd;
+                    no[at] = even;
+                    break;
+                case DISTINCT:
+                    yes[at] = count == 2 ? odd : 0;
+                    no[at] = count == 2 ? even : all;
+                    break;
+                case EQUAL:
+                    yes[at] = allYes | allNo;
+                    no[at] = someYes & someNo;
+                    break;
+                case OR:
+                case IMPLIES:
+                    yes[at] = someYes;
+                    no[at] = allNo;
+                    break;
+                default:
+                    yes[at] = allYes;
+                    no[at] = someNo;
+                    break;
+            }
+        }
+
+        /** Settings in which a term is not what it must be go; what it is in all others is certain. */
+        private void heed(State s, int t) {
+            boolean holds = (s.mustHold >> t & 1) == 1;
+            boolean fails = (s.mustFail >> t & 1) == 1;
+            long mayHold = 0;
+            long mayFail = 0;
+            for (int w = 0; w < question.words(); w++) {
+                int at = t * State.WORDS + w;
+                mayHold |= s.left[w] & yes[at];
+                mayFail |= s.left[w] & no[at];
+                s.left[w] &= (holds ? yes[at] : -1L) & (fails ? no[at] : -1L);
+                yes[at] = fails ? 0 : yes[at];
+                no[at] = holds ? 0 : no[at];
+            }
+            if (mayHold == 0 || mayFail == 0) {
+                settled |= 1L << t;
+            }
+            if (holds || fails) {
+                certain[t] = holds ? 1 : 0;
+            } else {
+                certain[t] = mayFail == 0 ? 1 : mayHold == 0 ? 0 : OPEN_VERDICT;
+            }
         }
 
         /** What must be so makes more so, and that is settled in the case; whether it still can be. */
         boolean spread(State s) {
             dead = false;
-            moved = false;
-            for (int i = 0; i < question.usedCount; i++) {
-                demand[question.used[i]] = OPEN_VERDICT;
-            }
-            for (int i = 0; i < question.rootCount; i++) {
-                need(question.roots[i], question.wanted[i]);
-            }
             for (int i = question.usedCount - 1; i >= 0 && !dead; i--) {
                 int t = question.used[i];
-                if (terms.sort[t] == BOOL && demand[t] != OPEN_VERDICT) {
-                    int side = terms.parts[t] > 0 ? terms.sort[terms.part(t, 0)] : NONE;
-                    if (terms.isUnit(t)) {
-                        s.boolKnown |= 1 << question.bit[t];
-                        s.boolTrue |= demand[t] << question.bit[t];
-                        moved = true;
-                    } else if (side == BOOL) {
-                        spreadToParts(t);
-                    } else if (side == INT) {
-                        spreadToPairs(s, t);
-                    } else if (side == ARRAY) {
-                        spreadToEquations(s, t);
+                boolean must = ((s.mustHold | s.mustFail) >> t & 1) == 1;
+                if (must && (settled >> t & 1) == 0 && terms.parts[t] > 0) {
+                    int wanted = (int) (s.mustHold >> t & 1);
+                    int side = terms.sort[terms.part(t, 0)];
+                    if (side == BOOL) {
+                        spreadToParts(s, t, wanted);
+                    } else if (side == INT && terms.kind[t] >= EQUAL) {
+                        spreadToPairs(s, t, wanted);
                     }
+                }
+            }
+            for (int p = 0; p < question.pairCount && !dead; p++) {
+                if ((s.unlike >> p & 1) == 1) {
+                    tighten(s, p);
                 }
             }
             return !dead;
         }
 
-        private void need(int t, int so) {
-            int is = certain[t] == OPEN_VERDICT ? demand[t] : certain[t];
-            if (is == OPEN_VERDICT) {
-                demand[t] = so;
-            } else if (is != so) {
-                dead = true;
+        private void need(State s, int t, int so) {
+            if (certain[t] != OPEN_VERDICT) {
+                dead |= certain[t] != so;
+                return;
+            }
+            moved = true;
+            if (so == 1) {
+                s.mustHold |= 1L << t;
+            } else {
+                s.mustFail |= 1L << t;
             }
         }
 
         /** An open part that would make the whole wrong, if it were so, must be the opposite. */
-        private void spreadToParts(int t) {
+        private void spreadToParts(State s, int t, int wanted) {
             for (int i = 0; i < terms.parts[t]; i++) {
                 int part = terms.part(t, i);
                 for (int so = 0; so <= 1 && certain[part] == OPEN_VERDICT; so++) {
                     certain[part] = so;
                     int whole = terms.kind[t] == ITE ? choice(t, certain) : connect(t, certain);
                     certain[part] = OPEN_VERDICT;
-                    if (whole == 1 - demand[t]) {
-                        need(part, 1 - so);
+                    if (whole == 1 - wanted) {
+                        need(s, part, 1 - so);
                     }
                 }
             }
         }
 
         /** All pairs must be so; or, if just one of them may not be so, that one must not. */
-        private void spreadToPairs(State s, int t) {
+        private void spreadToPairs(State s, int t, int wanted) {
             int accepts = ACCEPTS[terms.kind[t] - EQUAL];
-            int wanted = demand[t] == 1 ? accepts : ANYHOW - accepts;
-            if (demand[t] == 0 && countDoubtful(s, t) != 1) {
+            int good = wanted == 1 ? accepts : ANYHOW - accepts;
+            int n = question.first[t];
+            if (wanted == 0 && countDoubtful(s, t) != 1) {
                 return;
             }
             for (int i = 0; i < terms.parts[t]; i++) {
-                for (int j = i + 1; j <= terms.lastPartner(t, i); j++) {
+                for (int j = i + 1; j <= terms.lastPartner(t, i) && n < question.toldCount; j++) {
                     int a = terms.part(t, i);
                     int b = terms.part(t, j);
-                    int can = possible(s, a, b);
-                    int both = can & wanted;
-                    if (demand[t] == 1 && both == 0) {
+                    int p = question.told[n];
+                    int can = possible(s, a, b, p);
+                    int both = can & good;
+                    n++;
+                    if (wanted == 1 && both == 0) {
                         dead = true;
-                    } else if (both != 0 && both != can && both != (BELOW | ABOVE) && base[a] != NONE && base[b] != NONE) {
+                    } else if (both != 0 && both != can && base[a] != NONE && base[b] != NONE) {
                         moved = true;
-                        dead |= !s.relate(base[a], base[b], offset[b] - offset[a], both, question.nodes);
+                        if (both != (BELOW | ABOVE)) {
+                            dead |= !s.relate(base[a], base[b], offset[b] - offset[a], both, question.nodes);
+                        } else if (p != NONE) {
+                            s.unlike |= 1L << p;
+                        }
                     }
                 }
             }
@@ -1952,26 +2160,31 @@ public final class TheoryCourt {
         /** How many pairs of a comparison may be wrong. */
         private int countDoubtful(State s, int t) {
             int accepts = ACCEPTS[terms.kind[t] - EQUAL];
+            int n = question.first[t];
             int count = 0;
             for (int i = 0; i < terms.parts[t]; i++) {
-                for (int j = i + 1; j <= terms.lastPartner(t, i); j++) {
-                    if ((possible(s, terms.part(t, i), terms.part(t, j)) & ~accepts) != 0) {
+                for (int j = i + 1; j <= terms.lastPartner(t, i) && n < question.toldCount; j++) {
+                    if ((possible(s, terms.part(t, i), terms.part(t, j), question.told[n]) & ~accepts) != 0) {
                         count++;
                     }
+                    n++;
                 }
             }
             return count;
         }
 
-        private void spreadToEquations(State s, int t) {
-            int count = terms.pairs(t);
-            int mask = (1 << count) - 1 << question.firstEquation[t];
-            int open = mask & ~s.equalKnown;
-            boolean equal = terms.kind[t] == EQUAL == (demand[t] == 1);
-            if (open != 0 && (demand[t] == 1 || (open & open - 1) == 0)) {
-                s.equalKnown |= open;
-                s.equalTrue |= equal ? open : 0;
+        /** Two that must not be alike, and of which one cannot be above the other, are in an order. */
+        private void tighten(State s, int p) {
+            int a = question.pairA[p];
+            int b = question.pairB[p];
+            int can = possible(s, a, b, NONE);
+            if ((can & ALIKE) == 0) {
+                s.unlike &= ~(1L << p);
+            } else if (can == ALIKE) {
+                dead = true;
+            } else if (can != ANYHOW) {
                 moved = true;
+                dead |= !s.relate(base[a], base[b], offset[b] - offset[a], can & ~ALIKE, question.nodes);
             }
         }
 
@@ -2001,23 +2214,80 @@ public final class TheoryCourt {
 
         /** The part that an ITE is for sure; NONE while its condition is open and the two are not alike. */
         private int chosenPart(int t) {
-            int yes = terms.part(t, 1);
-            int no = terms.part(t, 2);
+            int one = terms.part(t, 1);
+            int other = terms.part(t, 2);
             int condition = certain[terms.part(t, 0)];
             if (condition == OPEN_VERDICT) {
-                return base[yes] != NONE && base[yes] == base[no] && offset[yes] == offset[no] ? yes : NONE;
+                return base[one] != NONE && base[one] == base[other] && offset[one] == offset[other] ? one : NONE;
             }
-            return condition == 1 ? yes : no;
+            return condition == 1 ? one : other;
         }
 
-        /** Finds what is so for the chosen numbers; open Bools and equations are false. */
+        /** One after the other gets the number nearest to 0 that the ones before it leave; and the least setting. */
+        void choose(State s) {
+            s.x[0] = 0;
+            for (int k = 1; k < question.nodes; k++) {
+                int low = -State.FREE;
+                int high = State.FREE;
+                for (int j = 0; j < k; j++) {
+                    int up = s.above[k * State.WIDTH + j];
+                    int down = s.above[j * State.WIDTH + k];
+                    high = up == State.FREE ? high : Math.min(high, s.x[j] + up);
+                    low = down == State.FREE ? low : Math.max(low, s.x[j] - down);
+                }
+                s.x[k] = nearest(s, k, low, high);
+            }
+            s.takeLeastSetting();
+        }
+
+        /** The number nearest to 0 that is like none that it must not be like; if there is none, just the nearest. */
+        private int nearest(State s, int k, int low, int high) {
+            int simple = low > 0 ? low : Math.min(high, 0);
+            int v = simple;
+            for (int i = 0; s.unlike != 0 && i < 2 * question.pairCount + 2; i++) {
+                if (v >= low && v <= high && !isTaken(s, k, v)) {
+                    return v;
+                }
+                v = v > 0 ? -v : 1 - v;
+            }
+            return simple;
+        }
+
+        private boolean isTaken(State s, int k, int v) {
+            for (int p = 0; p < question.pairCount; p++) {
+                int a = question.pairA[p];
+                int b = question.pairB[p];
+                if ((s.unlike >> p & 1) == 1 && base[a] != NONE && base[b] != NONE) {
+                    int gap = offset[b] - offset[a];
+                    boolean byA = base[a] == k && base[b] < k && v == s.x[base[b]] + gap;
+                    if (byA || base[b] == k && base[a] < k && v == s.x[base[a]] - gap) {
+                        return true;
+                    }
+                }
+            }
+            return false;
+        }
+
+        /** Two that must not be alike, and are so for the chosen numbers, are a flaw: there was no room. */
+        void findTight(State s) {
+            for (int p = 0; p < question.pairCount; p++) {
+                int a = question.pairA[p];
+                int b = question.pairB[p];
+                if ((s.unlike >> p & 1) == 1 && base[a] != NONE && base[b] != NONE
+                        && s.x[base[a]] + offset[a] == s.x[base[b]] + offset[b]) {
+                    blame(FLAW_TIGHT, a, b);
+                }
+            }
+        }
+
+        /** Finds what is so for the chosen numbers and the least setting. */
         void evaluate(State s) {
             for (int i = 0; i < question.usedCount; i++) {
                 int t = question.used[i];
                 if (terms.sort[t] == INT) {
                     actual[t] = number(s, t);
                 } else if (terms.sort[t] == BOOL) {
-                    actual[t] = verdict(s, t, true);
+                    actual[t] = verdict(s, t);
                 }
             }
         }
@@ -2035,14 +2305,13 @@ public final class TheoryCourt {
             }
         }
 
-        private int verdict(State s, int t, boolean exact) {
-            int kind = terms.kind[t];
-            switch (kind) {
+        private int verdict(State s, int t) {
+            switch (terms.kind[t]) {
                 case NAME:
                 case APPLICATION:
-                    return told(s.boolKnown, s.boolTrue, question.bit[t], exact);
+                    return s.setting >> question.positionOf(t) & 1;
                 case ITE:
-                    return choice(t, exact ? actual : certain);
+                    return choice(t, actual);
                 case TRUE:
                     return 1;
                 case FALSE:
@@ -2052,54 +2321,58 @@ public final class TheoryCourt {
             }
             int side = terms.sort[terms.part(t, 0)];
             if (side == BOOL) {
-                return connect(t, exact ? actual : certain);
+                return connect(t, actual);
             }
-            return side == INT ? compareAll(s, t, exact) : equateAll(s, t, exact);
+            return side == INT ? compareAll(s, t, true) : verdictAt(s, t);
         }
 
-        private static int told(int known, int yes, int which, boolean exact) {
-            if ((known >> which & 1) == 0) {
-                return exact ? 0 : OPEN_VERDICT;
+        /** What a term is in the least setting, as far as the case tells. */
+        private int verdictAt(State s, int t) {
+            int at = t * State.WORDS + (s.setting >> 6);
+            boolean may = (yes[at] >> (s.setting & 63) & 1) == 1;
+            boolean mayNot = (no[at] >> (s.setting & 63) & 1) == 1;
+            if (may && mayNot) {
+                return OPEN_VERDICT;
             }
-            return yes >> which & 1;
+            return may ? 1 : 0;
         }
 
         private int choice(int t, int[] so) {
             int condition = so[terms.part(t, 0)];
-            int yes = so[terms.part(t, 1)];
-            int no = so[terms.part(t, 2)];
+            int one = so[terms.part(t, 1)];
+            int other = so[terms.part(t, 2)];
             if (condition == OPEN_VERDICT) {
-                return yes == no ? yes : OPEN_VERDICT;
+                return one == other ? one : OPEN_VERDICT;
             }
-            return condition == 1 ? yes : no;
+            return condition == 1 ? one : other;
         }
 
         private int connect(int t, int[] so) {
             int count = terms.parts[t];
-            int yes = 0;
-            int no = 0;
+            int trues = 0;
+            int falses = 0;
             for (int i = 0; i < count; i++) {
                 int part = so[terms.part(t, i)];
-                yes += part == 1 ? 1 : 0;
-                no += part == 0 ? 1 : 0;
+                trues += part == 1 ? 1 : 0;
+                falses += part == 0 ? 1 : 0;
             }
-            int open = count - yes - no;
+            int open = count - trues - falses;
             int last = so[terms.part(t, count - 1)];
             switch (terms.kind[t]) {
                 case NOT:
-                    return open > 0 ? OPEN_VERDICT : no;
+                    return open > 0 ? OPEN_VERDICT : falses;
                 case AND:
-                    return settle(yes == count, no > 0);
+                    return settle(trues == count, falses > 0);
                 case OR:
-                    return settle(yes > 0, no == count);
+                    return settle(trues > 0, falses == count);
                 case XOR:
-                    return open > 0 ? OPEN_VERDICT : yes & 1;
+                    return open > 0 ? OPEN_VERDICT : trues & 1;
                 case IMPLIES:
-                    return settle(last == 1 || no - (last == 0 ? 1 : 0) > 0, last == 0 && yes == count - 1);
+                    return settle(last == 1 || falses - (last == 0 ? 1 : 0) > 0, last == 0 && trues == count - 1);
                 case EQUAL:
-                    return settle(yes == count || no == count, yes > 0 && no > 0);
+                    return settle(trues == count || falses == count, trues > 0 && falses > 0);
                 default:
-                    return settle(count == 2 && yes == 1 && no == 1, count > 2 || yes > 1 || no > 1);
+                    return settle(count == 2 && trues == 1 && falses == 1, count > 2 || trues > 1 || falses > 1);
             }
         }
 
@@ -2112,12 +2385,14 @@ public final class TheoryCourt {
 
         private int compareAll(State s, int t, boolean exact) {
             int accepts = ACCEPTS[terms.kind[t] - EQUAL];
+            int n = question.first[t];
             int result = 1;
             for (int i = 0; i < terms.parts[t]; i++) {
-                for (int j = i + 1; j <= terms.lastPartner(t, i); j++) {
+                for (int j = i + 1; j <= terms.lastPartner(t, i) && n < question.toldCount; j++) {
                     int a = terms.part(t, i);
                     int b = terms.part(t, j);
-                    int can = exact ? relation(a, b) : possible(s, a, b);
+                    int can = exact ? relation(a, b) : possible(s, a, b, question.told[n]);
+                    n++;
                     if ((can & accepts) == 0) {
                         return 0;
                     }
@@ -2129,21 +2404,13 @@ public final class TheoryCourt {
             return result;
         }
 
-        private int equateAll(State s, int t, boolean exact) {
-            int e = question.firstEquation[t];
-            int good = terms.kind[t] == EQUAL ? 1 : 0;
-            int result = 1;
-            for (int i = 0; i < terms.parts[t]; i++) {
-                for (int j = i + 1; j <= terms.lastPartner(t, i); j++) {
-                    int so = told(s.equalKnown, s.equalTrue, e, exact);
-                    if (so == 1 - good) {
-                        return 0;
-                    }
-                    if (so == OPEN_VERDICT) {
-                        result = OPEN_VERDICT;
-                    }
-                    e++;
-                }
+        /** The settings of a word in which an EQUAL or DISTINCT of arrays is true. */
+        private long equateAll(int t, int w) {
+            int e = question.first[t];
+            long result = -1L;
+            for (int i = 0; i < terms.pairs(t); i++) {
+                long ones = Question.settingsWith(question.positionOfEquation(e + i), w);
+                result &= terms.kind[t] == EQUAL ? ones : ~ones;
             }
             return result;
         }
@@ -2155,18 +2422,18 @@ public final class TheoryCourt {
             return actual[a] < actual[b] ? BELOW : ABOVE;
         }
 
-        /** How a can lie to b in this case. */
-        int possible(State s, int a, int b) {
+        /** How a can lie to b in this case, if these are pair p (NONE: it has no number). */
+        int possible(State s, int a, int b, int p) {
             if (a == b) {
                 return ALIKE;
             }
+            int can = p != NONE && (s.unlike >> p & 1) == 1 ? BELOW | ABOVE : ANYHOW;
             if (base[a] == NONE || base[b] == NONE) {
-                return ANYHOW;
+                return can;
             }
             int more = s.above[base[a] * State.WIDTH + base[b]];
             int less = s.above[base[b] * State.WIDTH + base[a]];
             int shift = offset[a] - offset[b];
-            int can = ANYHOW;
             if (more != State.FREE) {
                 can &= more + shift > 0 ? ANYHOW : more + shift == 0 ? BELOW | ALIKE : BELOW;
             }
@@ -2176,9 +2443,10 @@ public final class TheoryCourt {
             return can;
         }
 
+        /** Two terms may be alike in this case, and may be not. */
         boolean isOpen(State s, int a, int b) {
-            int can = possible(s, a, b);
-            return can != BELOW && can != ALIKE && can != ABOVE;
+            int can = possible(s, a, b, question.pairOf(a, b));
+            return (can & ALIKE) != 0 && can != ALIKE;
         }
 
         /** Something must be decided here: a term, an equation, or how two terms lie. */
@@ -2189,11 +2457,13 @@ public final class TheoryCourt {
             flawAccepts = ALIKE;
         }
 
-        /** What is demanded and is not so is a flaw. */
-        void findFailed() {
-            for (int i = 0; i < question.rootCount; i++) {
-                if (actual[question.roots[i]] != question.wanted[i]) {
-                    blame(FLAW_OPEN, question.roots[i], NONE);
+        /** The first term that must be so and is not so is a flaw: nothing below it is wrong, just open. */
+        void findFailed(State s) {
+            for (int i = 0; i < question.usedCount; i++) {
+                int t = question.used[i];
+                long wrong = actual[t] == 1 ? s.mustFail : s.mustHold;
+                if (terms.sort[t] == BOOL && (wrong >> t & 1) == 1) {
+                    blame(FLAW_OPEN, t, NONE);
                     return;
                 }
             }
@@ -2201,17 +2471,13 @@ public final class TheoryCourt {
 
         /** Goes down from what is to blame to something that can be decided. */
         void narrow(State s) {
-            for (int i = 0; i < 2 * MAX_TERMS; i++) {
-                if (flaw == FLAW_OPEN) {
-                    lookBelow(s, flawA);
-                } else if (flaw == FLAW_PAIR || flaw == FLAW_MERGE) {
-                    int condition = awaited(flawA, flawB);
-                    if (condition == NONE) {
-                        return;
-                    }
-                    blame(FLAW_OPEN, condition, NONE);
-                } else {
-                    return;
+            for (int i = 0; i < MAX_TERMS && flaw == FLAW_OPEN; i++) {
+                lookBelow(s, flawA);
+            }
+            if (flaw == FLAW_PAIR || flaw == FLAW_MERGE) {
+                int condition = awaited(flawA, flawB);
+                if (condition != NONE) {
+                    blame(FLAW_CONDITION, condition, NONE);
                 }
             }
         }
@@ -2240,30 +2506,26 @@ public final class TheoryCourt {
             return NONE;
         }
 
-        /** An open term is open for one of its parts, for two of them, or by itself. */
+        /** A term is open for one of its parts, or for two of them. */
         private void lookBelow(State s, int t) {
             int side = terms.parts[t] > 0 ? terms.sort[terms.part(t, 0)] : NONE;
             flaw = FLAW_DEAD;
-            if (terms.kind[t] == NAME || terms.kind[t] == APPLICATION) {
-                blame(FLAW_BOOL, t, NONE);
-            } else if (terms.kind[t] == ITE) {
-                int condition = certain[terms.part(t, 0)];
+            if (terms.kind[t] == ITE) {
+                int condition = verdictAt(s, terms.part(t, 0));
                 blame(FLAW_OPEN, terms.part(t, condition == OPEN_VERDICT ? 0 : 2 - condition), NONE);
             } else if (side == BOOL) {
-                blameOpenPart(t);
-            } else if (side == INT) {
+                blameOpenPart(s, t);
+            } else if (side == INT && terms.kind[t] >= EQUAL) {
                 blameOpenPair(s, t);
-            } else if (side == ARRAY) {
-                blameOpenEquation(s, t);
             }
         }
 
         /** To turn an open part that agrees with the whole is most likely to turn the whole. */
-        private void blameOpenPart(int t) {
+        private void blameOpenPart(State s, int t) {
             int found = NONE;
             for (int i = terms.parts[t] - 1; i >= 0; i--) {
                 int part = terms.part(t, i);
-                if (certain[part] == OPEN_VERDICT && (found == NONE || actual[part] == actual[t])) {
+                if ((found == NONE || actual[part] == actual[t]) && verdictAt(s, part) == OPEN_VERDICT) {
                     found = part;
                 }
             }
@@ -2274,28 +2536,20 @@ public final class TheoryCourt {
 
         private void blameOpenPair(State s, int t) {
             int accepts = ACCEPTS[terms.kind[t] - EQUAL];
-            for (int i = terms.parts[t] - 1; i >= 0; i--) {
-                for (int j = terms.lastPartner(t, i); j > i; j--) {
+            int n = question.first[t];
+            boolean wrong = false;
+            for (int i = 0; i < terms.parts[t]; i++) {
+                for (int j = i + 1; j <= terms.lastPartner(t, i) && n < question.toldCount; j++) {
                     int a = terms.part(t, i);
                     int b = terms.part(t, j);
-                    int can = possible(s, a, b);
+                    int can = possible(s, a, b, question.told[n]);
                     boolean open = (can & accepts) != 0 && (can & ~accepts) != 0;
-                    if (open && (flaw == FLAW_DEAD || (relation(a, b) & accepts) == 0)) {
+                    n++;
+                    if (open && (flaw == FLAW_DEAD || !wrong && (relation(a, b) & accepts) == 0)) {
+                        wrong = (relation(a, b) & accepts) == 0;
                         blame(FLAW_PAIR, a, b);
                         flawAccepts = accepts;
                     }
-                }
-            }
-        }
-
-        private void blameOpenEquation(State s, int t) {
-            int e = question.firstEquation[t];
-            for (int i = 0; i < terms.parts[t]; i++) {
-                for (int j = i + 1; j <= terms.lastPartner(t, i); j++) {
-                    if (flaw == FLAW_DEAD && (s.equalKnown >> e & 1) == 0) {
-                        blame(FLAW_EQUATION, e, NONE);
-                    }
-                    e++;
                 }
             }
         }
@@ -2378,9 +2632,10 @@ public final class TheoryCourt {
             joinAlike(s);
             fill();
             int e = clashA == NONE ? firstAlike(s) : NONE;
-            if (e != NONE && (s.equalKnown >> e & 1) == 0) {
-                judge.blame(FLAW_EQUATION, e, NONE);
-            } else if (e != NONE || clashA != NONE) {
+            if (e != NONE || clashA != NONE) {
+                blameOpenEquation(s, e);
+            }
+            if (judge.flaw == 0 && (e != NONE || clashA != NONE)) {
                 blameShape(s);
             }
             if (judge.flaw == 0 && clashA != NONE) {
@@ -2390,10 +2645,24 @@ public final class TheoryCourt {
             }
         }
 
+        private boolean isTrue(State s, int e) {
+            return (s.setting >> question.positionOfEquation(e) & 1) == 1;
+        }
+
+        /** Is the equation that fails, or one that makes rows alike, not so in all settings that are left? */
+        private void blameOpenEquation(State s, int failed) {
+            for (int e = 0; e < question.equations; e++) {
+                if ((e == failed || isTrue(s, e)) && s.isDivided(question.positionOfEquation(e))) {
+                    judge.blame(FLAW_EQUATION, e, NONE);
+                    return;
+                }
+            }
+        }
+
         /** The first equation that is false, though its rows must be alike; NONE. */
         private int firstAlike(State s) {
             for (int e = 0; e < question.equations; e++) {
-                if ((s.equalTrue >> e & 1) == 0 && !canDiffer(e)) {
+                if (!isTrue(s, e) && !canDiffer(e)) {
                     return e;
                 }
             }
@@ -2412,7 +2681,7 @@ public final class TheoryCourt {
                 }
             }
             for (int e = 0; e < question.equations; e++) {
-                if ((s.equalTrue >> e & 1) == 1) {
+                if (isTrue(s, e)) {
                     joinRows(row[question.left[e]], row[question.right[e]], NONE);
                 }
             }
@@ -2481,7 +2750,7 @@ public final class TheoryCourt {
             for (int i = 0; i < arrayCount; i++) {
                 int t = arrays[i];
                 if (terms.kind[t] == ITE && judge.certain[terms.part(t, 0)] == OPEN_VERDICT) {
-                    judge.blame(FLAW_OPEN, terms.part(t, 0), NONE);
+                    judge.blame(FLAW_CONDITION, terms.part(t, 0), NONE);
                     return;
                 }
             }
@@ -2510,7 +2779,6 @@ public final class TheoryCourt {
             }
         }
     }
-
     /** Goes through cases, each with numbers that are best in it, and splits one where these are no model. */
     private static final class Search {
         /** Above all bounds that there can be: a model with such a gap shows that there is no bound. */
@@ -2563,26 +2831,22 @@ public final class TheoryCourt {
                 for (int round = 0; round < MAX_ROUNDS && alive && judge.moved; round++) {
                     alive = judge.assess(current) && judge.spread(current);
                     if (alive && judge.moved) {
-                        current.choose(question.nodes);
+                        judge.choose(current);
                         alive = isAhead();
                     }
                 }
                 if (alive && isHighEnough()) {
-                    judge.evaluate(current);
-                    if (judge.flaw == 0) {
-                        judge.findFailed();
-                    }
-                    if (judge.flaw == 0) {
-                        findTornFunction();
-                    }
+                    lookAtNumbers();
                     if (judge.flaw == 0) {
                         slots.findFlaw(current);
                     }
                     if (judge.flaw == 0) {
                         keep();
                     } else {
+                        int bottom = top;
                         judge.narrow(current);
                         split();
+                        readyWaiting(bottom);
                     }
                 }
                 if (found && (mode == SEEK_ANY || mode == SEEK_MOST && most >= ENDLESS)) {
@@ -2599,13 +2863,32 @@ public final class TheoryCourt {
                 return;
             }
             s.reset();
+            s.mustHold = question.mustHold;
+            s.mustFail = question.mustFail;
+            for (int w = 0; w < State.WORDS; w++) {
+                s.left[w] = question.allSettings(w);
+            }
             for (int e = 0; e < question.equations; e++) {
                 if (question.left[e] == question.right[e]) {
-                    s.equalKnown |= 1 << e;
-                    s.equalTrue |= 1 << e;
+                    s.leaveThoseWith(question.positionOfEquation(e), 1);
                 }
             }
+            s.takeLeastSetting();
             top = 1;
+        }
+
+        /** Arrays are looked at behind this: that goes as deep as calls may. */
+        private void lookAtNumbers() {
+            judge.evaluate(current);
+            if (judge.flaw == 0) {
+                judge.findTight(current);
+            }
+            if (judge.flaw == 0) {
+                judge.findFailed(current);
+            }
+            if (judge.flaw == 0) {
+                findTornFunction();
+            }
         }
 
         /** As many states as one case can fall into are there; each is made once, and used again. */
@@ -2642,7 +2925,7 @@ public final class TheoryCourt {
             }
             int condition = judge.awaited(high, low);
             if (condition != NONE) {
-                judge.blame(FLAW_OPEN, condition, NONE);
+                judge.blame(FLAW_CONDITION, condition, NONE);
                 return true;
             }
             int h = judge.base[high];
@@ -2655,7 +2938,7 @@ public final class TheoryCourt {
             if (!aim.bound(l, h, -gap, question.nodes)) {
                 return false;
             }
-            aim.choose(question.nodes);
+            judge.choose(aim);
             System.arraycopy(aim.x, 0, current.x, 0, State.WIDTH);
             return true;
         }
@@ -2691,13 +2974,7 @@ public final class TheoryCourt {
                     return;
                 }
             }
-            if (terms.sort[a] == INT) {
-                judge.blame(FLAW_MERGE, a, b);
-            } else if (judge.certain[a] == OPEN_VERDICT) {
-                judge.blame(FLAW_BOOL, a, NONE);
-            } else {
-                judge.blame(judge.certain[b] == OPEN_VERDICT ? FLAW_BOOL : FLAW_DEAD, b, NONE);
-            }
+            judge.blame(terms.sort[a] == INT ? FLAW_MERGE : FLAW_SAME, a, b);
         }
 
         /** The current case is a model: it is the best one so far. */
@@ -2721,41 +2998,49 @@ public final class TheoryCourt {
 
         /** The cases that the current one falls into by its flaw; the likeliest is looked at first. */
         private void split() {
-            int bottom = top;
             int now = judge.flawA;
             if (top + MAX_SPLIT > MAX_STATES) {
                 return;
             }
             switch (judge.flaw) {
-                case FLAW_BOOL:
-                    pushBool(question.bit[now], judge.actual[now]);
-                    pushBool(question.bit[now], 1 - judge.actual[now]);
+                case FLAW_CONDITION:
+                    pushCondition(now, judge.actual[now]);
+                    pushCondition(now, 1 - judge.actual[now]);
                     break;
                 case FLAW_EQUATION:
                     pushEquation(now, 0);
                     pushEquation(now, 1);
                     break;
+                case FLAW_SAME:
+                    pushSame(now, judge.flawB);
+                    break;
                 case FLAW_PAIR:
-                    int is = judge.relation(judge.flawA, judge.flawB);
-                    pushPair(relationAt(is, 0));
-                    pushPair(relationAt(is, 1));
-                    pushPair(relationAt(is, 2));
+                    int pair = question.pairOf(now, judge.flawB);
+                    int is = judge.relation(now, judge.flawB);
+                    pushPair(relationAt(is, 0, pair), pair);
+                    pushPair(relationAt(is, 1, pair), pair);
+                    pushPair(relationAt(is, 2, pair), pair);
                     break;
                 case FLAW_MERGE:
-                    pushPair(ALIKE);
+                    pushPair(ALIKE, NONE);
+                    break;
+                case FLAW_TIGHT:
+                    pushPair(ABOVE, NONE);
+                    pushPair(BELOW, NONE);
                     break;
                 default:
                     break;
             }
-            if (mode == SEEK_LEAST) {
-                sortWaiting(bottom);
-            }
         }
 
-        /** A pair's cases, what it is now ahead of what it should be; an order has two of them, and a 0. */
-        private int relationAt(int is, int which) {
+        /**
+         * A pair's cases, what it is now ahead of what it should be; a 0 where there are just two. That two are
+         * not alike is one case, as long as the pair has a number: most of all, it makes cases few.
+         */
+        private int relationAt(int is, int which, int pair) {
             int accepts = judge.flawAccepts;
-            if (accepts != ALIKE && accepts != (BELOW | ABOVE)) {
+            boolean ofOrder = accepts != ALIKE && accepts != (BELOW | ABOVE);
+            if (ofOrder || pair != NONE) {
                 int same = (accepts & is) != 0 ? accepts : ANYHOW - accepts;
                 return which == 0 ? same : which == 1 ? ANYHOW - same : 0;
             }
@@ -2768,12 +3053,12 @@ public final class TheoryCourt {
             return is == ALIKE ? BELOW : ALIKE;
         }
 
-        private void pushBool(int bit, int so) {
+        private void pushCondition(int t, int so) {
             State s = waiting[top];
             if (s != null) {
                 s.copyFrom(current);
-                s.boolKnown |= 1 << bit;
-                s.boolTrue |= so << bit;
+                s.mustHold |= so == 1 ? 1L << t : 0;
+                s.mustFail |= so == 1 ? 0 : 1L << t;
                 top++;
             }
         }
@@ -2782,28 +3067,45 @@ public final class TheoryCourt {
             State s = waiting[top];
             if (s != null) {
                 s.copyFrom(current);
-                s.equalKnown |= 1 << e;
-                s.equalTrue |= so << e;
+                s.leaveThoseWith(question.positionOfEquation(e), so);
                 top++;
             }
         }
 
-        private void pushPair(int relation) {
+        /** Two Bools of a function that have the same parts are the same. */
+        private void pushSame(int a, int b) {
+            State s = waiting[top];
+            if (s != null) {
+                s.copyFrom(current);
+                s.leaveThoseAlike(question.positionOf(a), question.positionOf(b));
+                top++;
+            }
+        }
+
+        private void pushPair(int relation, int pair) {
             State s = waiting[top];
             if (relation == 0 || s == null) {
                 return;
             }
             s.copyFrom(current);
             int gap = judge.offset[judge.flawB] - judge.offset[judge.flawA];
-            if (s.relate(judge.base[judge.flawA], judge.base[judge.flawB], gap, relation, question.nodes)) {
-                s.choose(question.nodes);
+            if (relation == (BELOW | ABOVE) && pair != NONE) {
+                s.unlike |= 1L << pair;
+                top++;
+            } else if (s.relate(judge.base[judge.flawA], judge.base[judge.flawB], gap, relation, question.nodes)) {
                 top++;
             }
         }
 
-        /** The one with the best numbers comes to the top. */
-        private void sortWaiting(int bottom) {
-            for (int i = bottom + 1; i < top; i++) {
+        /** New cases get their numbers; in search of the least, the one with the best comes to the top. */
+        private void readyWaiting(int bottom) {
+            for (int i = bottom; i < top; i++) {
+                State s = waiting[i];
+                if (s != null) {
+                    judge.choose(s);
+                }
+            }
+            for (int i = bottom + 1; mode == SEEK_LEAST && i < top; i++) {
                 for (int j = i; j > bottom; j--) {
                     State upper = waiting[j];
                     State lower = waiting[j - 1];
@@ -2820,21 +3122,21 @@ public final class TheoryCourt {
         private int compareNumbers(State a, State b) {
             for (int i = 0; i < question.unitCount; i++) {
                 int t = question.units[i];
-                int which = terms.sort[t] == INT ? question.node[t] : question.bit[t];
-                long one = terms.sort[t] == INT ? rank(a.x[which]) : a.boolTrue >> which & 1;
-                long other = terms.sort[t] == INT ? rank(b.x[which]) : b.boolTrue >> which & 1;
-                if (one != other) {
-                    return one < other ? -1 : 1;
+                if (terms.sort[t] == BOOL) {
+                    int position = question.positionOf(t);
+                    int so = a.setting >> position & 1;
+                    if (so != (b.setting >> position & 1)) {
+                        return so == 0 ? -1 : 1;
+                    }
+                } else {
+                    long one = rank(a.x[question.node[t]]);
+                    long other = rank(b.x[question.node[t]]);
+                    if (one != other) {
+                        return one < other ? -1 : 1;
+                    }
                 }
             }
-            for (int e = 0; e < question.equations; e++) {
-                int one = a.equalTrue >> e & 1;
-                int other = b.equalTrue >> e & 1;
-                if (one != other) {
-                    return one - other;
-                }
-            }
-            return 0;
+            return a.setting - b.setting;
         }
 
         private static long rank(int v) {
