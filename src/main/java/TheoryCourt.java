@@ -1724,12 +1724,9 @@ public final class TheoryCourt {
         }
 
         void takeLeastSetting() {
-            setting = 0;
-            if (left[0] != 0) {
-                setting = Long.numberOfTrailingZeros(left[0]);
-            } else if (left[1] != 0) {
-                setting = 64 + Long.numberOfTrailingZeros(left[1]);
-            }
+            int word = left[0] == 0 && left[1] != 0 ? 1 : 0;
+            long below = (left[word] & -left[word]) - 1;
+            setting = left[word] == 0 ? 0 : 64 * word + Long.bitCount(below);
         }
 
         /** Number i is at most c above number j from now on; whether that can be. */
@@ -2061,9 +2058,9 @@ public final class TheoryCourt {
                 int at = t * State.WORDS + w;
                 mayHold |= s.left[w] & yes[at];
                 mayFail |= s.left[w] & no[at];
-                s.left[w] &= (holds ? yes[at] : -1L) & (fails ? no[at] : -1L);
                 yes[at] = fails ? 0 : yes[at];
                 no[at] = holds ? 0 : no[at];
+                s.left[w] &= yes[at] | no[at];
             }
             if (mayHold == 0 || mayFail == 0) {
                 settled |= 1L << t;
@@ -2270,7 +2267,7 @@ public final class TheoryCourt {
 
         /** Two that must not be alike, and are so for the chosen numbers, are a flaw: there was no room. */
         void findTight(State s) {
-            for (int p = 0; p < question.pairCount; p++) {
+            for (int p = 0; flaw == 0 && p < question.pairCount; p++) {
                 int a = question.pairA[p];
                 int b = question.pairB[p];
                 if ((s.unlike >> p & 1) == 1 && base[a] != NONE && base[b] != NONE
@@ -2459,12 +2456,11 @@ public final class TheoryCourt {
 
         /** The first term that must be so and is not so is a flaw: nothing below it is wrong, just open. */
         void findFailed(State s) {
-            for (int i = 0; i < question.usedCount; i++) {
+            for (int i = 0; flaw == 0 && i < question.usedCount; i++) {
                 int t = question.used[i];
                 long wrong = actual[t] == 1 ? s.mustFail : s.mustHold;
                 if (terms.sort[t] == BOOL && (wrong >> t & 1) == 1) {
                     blame(FLAW_OPEN, t, NONE);
-                    return;
                 }
             }
         }
@@ -2621,7 +2617,7 @@ public final class TheoryCourt {
 
         /** What the arrays cannot be is a flaw. */
         void findFlaw(State s) {
-            if (arrayCount == 0) {
+            if (judge.flaw != 0 || arrayCount == 0) {
                 return;
             }
             for (int i = 0; i < parent.length; i++) {
@@ -2785,11 +2781,16 @@ public final class TheoryCourt {
         static final int ENDLESS = 200000000;
         /** What is aimed at without a bound; the terms' own numbers take a little of it away. */
         private static final int AIM = 400000000;
-        /** No run needs half as many: each split settles one of some 120 things for good. */
+        /** No run needs half as many: each split settles one of some 200 things for good. */
         private static final int MAX_STATES = 512;
         private static final int MAX_SPLIT = 3;
         private static final int MAX_ROUNDS = 1000;
-        private static final int MAX_CASES = 10000000;
+        /**
+         * Far above what any run can need: 12 comparisons of 6 numbers fall into 2,510 cases at most (as many as
+         * there are ways to take no more than 6 of 12), 8 times as many for the conditions of 3 ITEs, and some
+         * more for functions and arrays.
+         */
+        private static final int MAX_CASES = 1000000000;
 
         private final Terms terms;
         private final Question question;
@@ -2836,10 +2837,11 @@ public final class TheoryCourt {
                     }
                 }
                 if (alive && isHighEnough()) {
-                    lookAtNumbers();
-                    if (judge.flaw == 0) {
-                        slots.findFlaw(current);
-                    }
+                    judge.evaluate(current);
+                    judge.findTight(current);
+                    judge.findFailed(current);
+                    findTornFunction();
+                    slots.findFlaw(current);
                     if (judge.flaw == 0) {
                         keep();
                     } else {
@@ -2875,20 +2877,6 @@ public final class TheoryCourt {
             }
             s.takeLeastSetting();
             top = 1;
-        }
-
-        /** Arrays are looked at behind this: that goes as deep as calls may. */
-        private void lookAtNumbers() {
-            judge.evaluate(current);
-            if (judge.flaw == 0) {
-                judge.findTight(current);
-            }
-            if (judge.flaw == 0) {
-                judge.findFailed(current);
-            }
-            if (judge.flaw == 0) {
-                findTornFunction();
-            }
         }
 
         /** As many states as one case can fall into are there; each is made once, and used again. */
@@ -2947,12 +2935,11 @@ public final class TheoryCourt {
         private void findTornFunction() {
             for (int i = 0; i < question.unitCount; i++) {
                 int a = question.units[i];
-                for (int j = 0; terms.kind[a] == APPLICATION && j < i; j++) {
+                for (int j = 0; judge.flaw == 0 && terms.kind[a] == APPLICATION && j < i; j++) {
                     int b = question.units[j];
                     if (terms.kind[b] == APPLICATION && terms.number[a] == terms.number[b]
                             && judge.actual[a] != judge.actual[b] && haveSameParts(a, b)) {
                         blameFunction(a, b);
-                        return;
                     }
                 }
             }
