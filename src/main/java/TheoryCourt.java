@@ -1762,6 +1762,8 @@ public final class TheoryCourt {
     private static final class Question {
         /** Pairs that are found to matter get a bit each, while there are some. */
         private static final int MAX_PAIRS = 64;
+        /** A word holds the settings of so many bits; by bit, those of them that have it. */
+        static final int WORD_WIDTH = 6;
         private static final long[] ONES = {0xAAAAAAAAAAAAAAAAL, 0xCCCCCCCCCCCCCCCCL, 0xF0F0F0F0F0F0F0F0L,
             0xFF00FF00FF00FF00L, 0xFFFF0000FFFF0000L, 0xFFFFFFFF00000000L};
 
@@ -1889,33 +1891,32 @@ public final class TheoryCourt {
 
         /** The first unit has the highest bit, the last equation the lowest: the least setting comes first. */
         int positionOf(int unit) {
-            return bits + equations - 1 - node[unit];
+            return width() - 1 - node[unit];
         }
 
         int positionOfEquation(int e) {
             return equations - 1 - e;
         }
 
+        /** How many bits a setting has. */
+        int width() {
+            return bits + equations;
+        }
+
         /** The settings of a word that there are. */
         long allSettings(int word) {
-            int width = bits + equations;
             if (word > 0) {
-                return width > ONES.length ? -1L : 0L;
+                return width() > WORD_WIDTH ? -1L : 0L;
             }
-            return width >= ONES.length ? -1L : (1L << (1 << width)) - 1;
+            return width() >= WORD_WIDTH ? -1L : (1L << (1 << width())) - 1;
         }
 
         /** The settings of a word that have a 1 at a position. */
         static long settingsWith(int position, int word) {
-            if (position >= 0 && position < ONES.length) {
+            if (position >= 0 && position < WORD_WIDTH) {
                 return ONES[position];
             }
             return word > 0 ? -1L : 0L;
-        }
-
-        /** How many words hold all settings. */
-        int words() {
-            return bits + equations > ONES.length ? 2 : 1;
         }
     }
 
@@ -1932,6 +1933,9 @@ public final class TheoryCourt {
         /** By Int term: its unit's node, NONE while an ITE's condition is open, and what is added. */
         final int[] base = new int[MAX_TERMS];
         final int[] offset = new int[MAX_TERMS];
+        /** The settings that there are, and how many words hold them. */
+        private final long[] all = new long[State.WORDS];
+        private int words = 1;
         /** Terms that are what they must be, whatever comes. */
         private long settled = 0;
         private boolean dead = false;
@@ -1944,6 +1948,14 @@ public final class TheoryCourt {
         Judge(Terms terms, Question question) {
             this.terms = terms;
             this.question = question;
+        }
+
+        /** Must be called when the question has been gathered. */
+        void gather() {
+            words = question.width() > Question.WORD_WIDTH ? 2 : 1;
+            for (int w = 0; w < State.WORDS; w++) {
+                all[w] = question.allSettings(w);
+            }
         }
 
         /** Finds what is sure, and which settings are left; whether there are some. */
@@ -1972,22 +1984,21 @@ public final class TheoryCourt {
             if (kind >= EQUAL && side == INT) {
                 verdict = compareAll(s, t, false);
             }
-            for (int w = 0; w < question.words(); w++) {
+            for (int w = 0; w < words; w++) {
                 int at = t * State.WORDS + w;
-                long all = question.allSettings(w);
-                if (terms.isUnit(t)) {
-                    yes[at] = all & Question.settingsWith(question.positionOf(t), w);
-                    no[at] = all & ~yes[at];
+                if (kind <= APPLICATION) {
+                    yes[at] = all[w] & Question.settingsWith(question.positionOf(t), w);
+                    no[at] = all[w] & ~yes[at];
                 } else if (kind == ITE) {
                     weighChoice(t, w);
                 } else if (side == BOOL) {
-                    weighParts(t, w, all);
+                    weighParts(t, w);
                 } else if (side == ARRAY) {
-                    yes[at] = all & equateAll(t, w);
-                    no[at] = all & ~yes[at];
+                    yes[at] = all[w] & equateAll(t, w);
+                    no[at] = all[w] & ~yes[at];
                 } else {
-                    yes[at] = verdict == 0 ? 0 : all;
-                    no[at] = verdict == 1 ? 0 : all;
+                    yes[at] = verdict == 0 ? 0 : all[w];
+                    no[at] = verdict == 1 ? 0 : all[w];
                 }
             }
         }
@@ -2000,15 +2011,15 @@ public final class TheoryCourt {
             no[t * State.WORDS + w] = yes[condition] & no[one] | no[condition] & no[other];
         }
 
-        private void weighParts(int t, int w, long all) {
+        private void weighParts(int t, int w) {
             int kind = terms.kind[t];
             int count = terms.parts[t];
-            long allYes = all;
-            long allNo = all;
+            long allYes = all[w];
+            long allNo = all[w];
             long someYes = 0;
             long someNo = 0;
             long odd = 0;
-            long even = all;
+            long even = all[w];
             for (int i = 0; i < count; i++) {
                 int at = terms.part(t, i) * State.WORDS + w;
                 boolean turned = kind == NOT || kind == IMPLIES && i < count - 1;
@@ -2030,7 +2041,7 @@ public final class TheoryCourt {
                     break;
                 case DISTINCT:
                     yes[at] = count == 2 ? odd : 0;
-                    no[at] = count == 2 ? even : all;
+                    no[at] = count == 2 ? even : all[w];
                     break;
                 case EQUAL:
                     yes[at] = allYes | allNo;
@@ -2048,28 +2059,34 @@ public final class TheoryCourt {
             }
         }
 
-        /** Settings in which a term is not what it must be go; what it is in all others is certain. */
+        /** What a term is in all settings that are left is certain, and so is what it must be. */
         private void heed(State s, int t) {
-            boolean holds = (s.mustHold >> t & 1) == 1;
-            boolean fails = (s.mustFail >> t & 1) == 1;
             long mayHold = 0;
             long mayFail = 0;
-            for (int w = 0; w < question.words(); w++) {
+            for (int w = 0; w < words; w++) {
+                mayHold |= s.left[w] & yes[t * State.WORDS + w];
+                mayFail |= s.left[w] & no[t * State.WORDS + w];
+            }
+            certain[t] = mayFail == 0 ? 1 : mayHold == 0 ? 0 : OPEN_VERDICT;
+            if (certain[t] != OPEN_VERDICT) {
+                settled |= 1L << t;
+            }
+            if (((s.mustHold | s.mustFail) >> t & 1) == 1) {
+                obey(s, t);
+            }
+        }
+
+        /** Settings in which a term cannot be what it must be go. */
+        private void obey(State s, int t) {
+            boolean holds = (s.mustHold >> t & 1) == 1;
+            boolean fails = (s.mustFail >> t & 1) == 1;
+            for (int w = 0; w < words; w++) {
                 int at = t * State.WORDS + w;
-                mayHold |= s.left[w] & yes[at];
-                mayFail |= s.left[w] & no[at];
                 yes[at] = fails ? 0 : yes[at];
                 no[at] = holds ? 0 : no[at];
                 s.left[w] &= yes[at] | no[at];
             }
-            if (mayHold == 0 || mayFail == 0) {
-                settled |= 1L << t;
-            }
-            if (holds || fails) {
-                certain[t] = holds ? 1 : 0;
-            } else {
-                certain[t] = mayFail == 0 ? 1 : mayHold == 0 ? 0 : OPEN_VERDICT;
-            }
+            certain[t] = holds ? 1 : 0;
         }
 
         /** What must be so makes more so, and that is settled in the case; whether it still can be. */
@@ -2824,6 +2841,7 @@ public final class TheoryCourt {
             low = lower;
             found = false;
             top = 0;
+            judge.gather();
             slots.gather();
             pushFirst();
             for (int i = 0; i < MAX_CASES && top > 0; i++) {
