@@ -30,6 +30,8 @@ public final class TheoryCourt {
     private static final int MAX_INT_ITES = 3;
     private static final int MAX_READ = 4000;
     private static final int MAX_NUMBER = 999999;
+    /** No core needs as many: an assertion stays, or its block is halved a few times until it goes. */
+    private static final int MAX_TRIES = 1000;
     private static final int MAX_CLAUSE = 8;
     private static final int MAX_STEPS = 60;
 
@@ -482,15 +484,28 @@ public final class TheoryCourt {
         return coreMask >> i & 1;
     }
 
+    /**
+     * Tries to leave out several at once, for a search that finds no model is dear: if those that are left
+     * cannot all be true without them, they cannot with some of them either, so each would go by itself, too.
+     */
     private void findCore() {
         if (coreMask != NONE) {
             return;
         }
         int mask = (1 << terms.assertions) - 1;
-        for (int i = terms.assertions - 1; i >= 0; i--) {
-            int without = mask & ~(1 << i);
+        int behind = terms.assertions;
+        int size = terms.assertions / 2;
+        for (int i = 0; i < MAX_TRIES && behind > 0; i++) {
+            size = Math.max(1, Math.min(size, behind));
+            int without = mask & ~((1 << size) - 1 << behind - size);
             if (!canAll(without)) {
                 mask = without;
+                behind -= size;
+                size *= 2;
+            } else if (size == 1) {
+                behind--;
+            } else {
+                size /= 2;
             }
         }
         coreMask = mask;
