@@ -38,6 +38,71 @@ final class Bench {
         due("place after " + text, x.place(), place);
     }
 
+    /** A command that must fail so, and leave all that can be seen as it was, but for the place. */
+    void refuses(TheoryCourt x, String text, int want, int place) {
+        String before = seen(x);
+        fails(x, text, want, place);
+        due("what is seen after " + text, seen(x), before);
+        due("bytes on the tape after " + text, x.end(20), TheoryCourt.NONE);
+    }
+
+    /** All that a small court tells of itself, but for the place of its latest run. */
+    static String seen(TheoryCourt x) {
+        StringBuilder all = new StringBuilder(counts(x));
+        int symbols = x.count(0);
+        for (int s = 0; s < symbols; s++) {
+            all.append("| symbol");
+            int length = x.symbol(s, -1);
+            for (int i = -4; i < length; i++) {
+                all.append(' ').append(x.symbol(s, i));
+            }
+        }
+        int terms = x.count(1);
+        for (int k = 0; k < terms; k++) {
+            all.append("| term ").append(x.value(k));
+            int parts = x.term(k, 3);
+            for (int what = 0; what < 4 + parts; what++) {
+                all.append(' ').append(x.term(k, what));
+            }
+        }
+        int assertions = x.count(2);
+        for (int i = 0; i < assertions; i++) {
+            all.append("| assertion ").append(x.asserted(i)).append(' ').append(x.core(i));
+        }
+        return all.append(seenOfProofs(x)).append("| check ").append(x.check()).append(seenOfOut(x)).toString();
+    }
+
+    private static String seenOfProofs(TheoryCourt x) {
+        StringBuilder all = new StringBuilder("| refuted ");
+        all.append(x.refuted());
+        int length = x.clause(-1, -1);
+        for (int k = -1; length >= 0; k++) {
+            all.append("| clause");
+            for (int i = 0; i < length; i++) {
+                all.append(' ').append(x.clause(k, i));
+            }
+            length = x.clause(k + 1, -1);
+        }
+        return all.toString();
+    }
+
+    private static String seenOfOut(TheoryCourt x) {
+        StringBuilder all = new StringBuilder("| out ");
+        for (int i = 0; x.out(i) >= 0; i++) {
+            all.append(x.out(i)).append(' ');
+        }
+        return all.toString();
+    }
+
+    /** How many there are of each, which a full court tells in few calls. */
+    static String counts(TheoryCourt x) {
+        StringBuilder all = new StringBuilder();
+        for (int what = 0; what <= 9; what++) {
+            all.append(x.count(what)).append(' ');
+        }
+        return all.toString();
+    }
+
     /** All of these must be carried out. */
     static TheoryCourt court(String... texts) {
         TheoryCourt x = new TheoryCourt();
