@@ -2,6 +2,11 @@ import java.nio.charset.StandardCharsets;
 
 /** What the tests share: texts become feeds, and answers are held against those that are due. */
 final class Bench {
+    private static final String[] GONE = {"(push)", "(declare-const z0 Bool)", "(define-fun z1 ((u Bool) (v Int) (w Int)) Bool u)",
+        "(declare-fun z2 (Int Int Int) Bool)", "(declare-const z3 (Array Int Int))", "(define-fun z4 () Int 7)",
+        "(assert (z2 z4 7 (select (store z3 7 8) 8)))", "(assert (not (= z0 z0 z0 z0 z0 z0 z0 z0)))",
+        "(term (and (distinct 9 8 7) (< 7 8 9 7 8 9 7 8) (= z3 z3 z3) (or z0 z0 z0 z0 z0 z0 z0 (xor z0 z0 z0 z0 z0 z0 z0 z0))))"};
+
     private final String title;
     private int looked = 0;
     private int wrong = 0;
@@ -105,13 +110,34 @@ final class Bench {
 
     /** All of these must be carried out. */
     static TheoryCourt court(String... texts) {
-        TheoryCourt x = new TheoryCourt();
+        return carryOut(new TheoryCourt(), texts);
+    }
+
+    private static TheoryCourt carryOut(TheoryCourt x, String... texts) {
         for (String text : texts) {
             if (run(x, text) < 0) {
                 throw new IllegalStateException("not carried out: " + text);
             }
         }
         return x;
+    }
+
+    /** The same, but behind a level that was full of other things, and has gone: nothing of it may be seen. */
+    static TheoryCourt worn(String... texts) {
+        TheoryCourt x = court(GONE);
+        int last = x.count(1) - 1;
+        for (int step = 0; step < 2; step++) {
+            for (int t = last; x.clause(-1, -1) < 7; t--) {
+                x.literal(2 * t + step);
+            }
+            x.literal(2 * x.asserted(step));
+            x.step(0, step, 0);
+        }
+        x.value(last);
+        x.core(0);
+        x.holds(last);
+        x.literal(2 * last);
+        return carryOut(carryOut(x, "(pop)"), texts);
     }
 
     static int term(TheoryCourt x, String text) {

@@ -40,6 +40,7 @@ public final class FaultEdgeTest {
 
     private static void fault(Bench b, String text, int fault, int place) {
         b.refuses(court(), text, -100 - fault, place);
+        b.fails(Bench.worn(NAMES), text, -100 - fault, place);
     }
 
     /** A term with a fault, told without the command around it; its place is one in the term. */
@@ -48,10 +49,11 @@ public final class FaultEdgeTest {
     }
 
     private static void right(Bench b, String term, String written) {
-        TheoryCourt x = court();
-        int t = Bench.term(x, term);
-        b.due("term " + term, t >= 0 ? 1 : 0, 1);
-        b.due("write of " + term, Bench.written(x, t), written);
+        for (TheoryCourt x : new TheoryCourt[] {court(), Bench.worn(NAMES)}) {
+            int t = Bench.term(x, term);
+            b.due("term " + term, t >= 0 ? 1 : 0, 1);
+            b.due("write of " + term, Bench.written(x, t), written);
+        }
     }
 
     /** 1 a NAME that there is not (at it, ahead of the terms behind it). */

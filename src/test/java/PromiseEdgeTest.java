@@ -40,9 +40,12 @@ public final class PromiseEdgeTest {
         apartsRefused(b);
         written(b);
         writtenToTheLast(b);
+        writtenNumbers(b);
         outs(b);
         symbols(b);
         sures(b);
+        askedAndChanged(b);
+        askedOneAfterTheOther(b);
         lastCall(b);
         wildNumbers(b);
         b.finish();
@@ -565,10 +568,15 @@ public final class PromiseEdgeTest {
     }
 
     private static TheoryCourt longTexts(int lastLength) {
+        return longTexts("n".repeat(lastLength));
+    }
+
+    /** A long text, and 1986 bytes of it are not the last part's. */
+    private static TheoryCourt longTexts(String last) {
         // Each d is its part twice, and 7 bytes: 1, 9, 25, 57, 121, 249, 505, 1017.
-        String last = "n".repeat(lastLength);
-        TheoryCourt x = Bench.court("(declare-const p Bool)", "(declare-const " + last + " Bool)",
-            "(define-fun d ((v Bool)) Bool (xor v v))");
+        TheoryCourt x = Bench.court("(declare-const p Bool)", "(declare-const " + "n".repeat(14) + " Bool)",
+            "(declare-const " + "n".repeat(15) + " Bool)", "(declare-const x Int)", "(declare-const xyzxyzxyz Int)",
+            "(declare-fun f (Int Int) Bool)", "(define-fun d ((v Bool)) Bool (xor v v))");
         Bench.run(x, "(term (let ((b (d (d p)))) (let ((c (d b))) (let ((e (d c))) (let ((g (d e))) (let ((h (d g))) (let ((i (d h)))"
             + " (and i h g e c b " + last + "))))))))");
         return x;
@@ -598,6 +606,22 @@ public final class PromiseEdgeTest {
         Bench.run(z, "(term (let ((b (d (d (d (d (d (d (d (d (d (d p))))))))))) ) (xor b b)))");
         b.due("thousands of bytes", z.write(z.count(1) - 1), NONE);
         b.due("OUT stays", z.out(1999), ')');
+    }
+
+    /** The same edge, for each form that a number has. */
+    private static void writtenNumbers(Bench b) {
+        String[][] texts = {{"(< x (- 9999))", "(< x (- 99999))"}, {"(< (- 9999) x)", "(< (- 99999) x)"},
+            {"(< (+ x 99) x)", "(< (+ x 999) x)"}, {"(< x (- x 99))", "(< x (- x 999))"}, {"(>= x (+ x 9))", "(>= x (+ x 10))"},
+            {"(<= x 9 99999)", "(<= x 9 100000)"}, {"(f x (- x 10))", "(f x (- x 100))"}, {"(distinct x 0)", "(distinct x 10)"},
+            {"(f 100000 999)", "(f 100000 1000)"}, {"(f (- 1) 1000)", "(f (- 10) 1000)"}};
+        for (String[] pair : texts) {
+            TheoryCourt x = longTexts(pair[0]);
+            b.due("write with " + pair[0], x.write(x.count(1) - 1), 2000);
+            b.due("the last", x.out(1999), ')');
+            TheoryCourt y = longTexts(pair[1]);
+            b.due("write with " + pair[1], y.write(y.count(1) - 1), NONE);
+            b.due("nothing is in OUT", y.out(0), NONE);
+        }
     }
 
     /** Promise 15: byte i of OUT; NONE when there is none. */
@@ -670,6 +694,77 @@ public final class PromiseEdgeTest {
             Bench.run(x, "(pop)");
             b.due("after pop", x.sure(), 1);
         }
+    }
+
+    /** What was answered once is answered by what is asserted now. */
+    private static void askedAndChanged(Bench b) {
+        TheoryCourt x = asserting("(> x 3)");
+        value(b, x, "x", 4);
+        Bench.run(x, "(push)");
+        Bench.run(x, "(assert (> x 8))");
+        value(b, x, "x", 9);
+        Bench.run(x, "(pop)");
+        value(b, x, "x", 4);
+        TheoryCourt y = Bench.court(NAMES);
+        hold(b, y, "p", 2);
+        Bench.run(y, "(push)");
+        hold(b, y, "p", 2);
+        Bench.run(y, "(assert p)");
+        hold(b, y, "p", 1);
+        Bench.run(y, "(pop)");
+        hold(b, y, "p", 2);
+        Bench.run(y, "(push)");
+        Bench.run(y, "(assert (not p))");
+        hold(b, y, "p", 0);
+        Bench.run(y, "(pop)");
+        hold(b, y, "p", 2);
+        TheoryCourt z = asserting("p", "q");
+        Bench.run(z, "(push)");
+        Bench.run(z, "(assert (not p))");
+        b.due("core(0)", z.core(0), 1);
+        b.due("core(1)", z.core(1), 0);
+        Bench.run(z, "(pop)");
+        b.due("core after pop", z.core(0), NONE);
+        Bench.run(z, "(assert (not q))");
+        b.due("core(0)", z.core(0), 0);
+        b.due("core(1)", z.core(1), 1);
+        Bench.run(z, "(assert (and p (not p)))");
+        b.due("core(3)", z.core(3), 0);
+        TheoryCourt w = asserting("(<= x 5)");
+        apart(b, w, "x", "0", 5);
+        Bench.run(w, "(push)");
+        Bench.run(w, "(assert (< x 2))");
+        apart(b, w, "x", "0", 1);
+        Bench.run(w, "(pop)");
+        apart(b, w, "x", "0", 5);
+    }
+
+    /** No question leaves anything behind for the next one. */
+    private static void askedOneAfterTheOther(Bench b) {
+        TheoryCourt x = asserting("(distinct x 5)", "(or p q)");
+        b.due("check", x.check(), 1);
+        hold(b, x, "(= x 7)", 2);
+        hold(b, x, "(= x 5)", 0);
+        value(b, x, "x", 0);
+        hold(b, x, "p", 2);
+        Bench.run(x, "(term y)");
+        value(b, x, "p", 0);
+        apart(b, x, "x", "0", FAR);
+        Bench.run(x, "(term z)");
+        value(b, x, "x", 0);
+        value(b, x, "q", 1);
+        b.due("check", x.check(), 1);
+        b.due("sure", x.sure(), 1);
+        TheoryCourt y = asserting("p", "(< x 3)", "(not p)");
+        b.due("core", y.core(1), 0);
+        b.due("sure", y.sure(), 1);
+        hold(b, y, "(< x 3)", UNSAT);
+        b.due("check", y.check(), 0);
+        b.due("core", y.core(2), 1);
+    }
+
+    private static void hold(Bench b, TheoryCourt x, String text, int want) {
+        b.due("holds of " + text, x.holds(Bench.term(x, text)), want);
     }
 
     /** An object is used for at most 512 calls: the last of them answers as the first. */

@@ -20,6 +20,7 @@ public final class ProofEdgeTest {
         orderOfLiterals(b);
         sixtySteps(b);
         whatTakesStepsAway(b);
+        whatWent(b);
         whatDoesNot(b);
         noSuchRule(b);
         numbersThatAreNone(b);
@@ -67,7 +68,7 @@ public final class ProofEdgeTest {
 
     /** Whether a rule allows a draft; a refused one stays, an allowed one is the first step. */
     private static void rule(Bench b, boolean want, int rule, String one, String other, List<String> draft) {
-        TheoryCourt x = Bench.court(NAMES);
+        TheoryCourt x = Bench.worn(NAMES);
         int[] terms = {number(x, one), number(x, other)};
         for (String text : draft) {
             add(x, text);
@@ -133,8 +134,10 @@ public final class ProofEdgeTest {
         b.due("clear", x.clear(), 6);
         b.due("literal of nothing", new TheoryCourt().literal(0), NONE);
         b.due("literal of nothing", new TheoryCourt().literal(1), NONE);
-        TheoryCourt y = Bench.court("(push)", "(term true)", "(pop)");
-        b.due("literal of what went", y.literal(0), NONE);
+        TheoryCourt y = Bench.court("(term (not true))", "(push)", "(term (not (not true)))", "(pop)");
+        b.due("literal of what stays", y.literal(3), 1);
+        b.due("literal of what went", y.literal(4), NONE);
+        b.due("literal of what went", y.literal(5), NONE);
     }
 
     private static final String[] EIGHT = {"p", "~q", "s", "true", "~false", "(not p)", "(and p)", "~(or p)"};
@@ -224,6 +227,29 @@ public final class ProofEdgeTest {
         b.due("the step", x.clause(0, -1), NONE);
         add(x, "~false");
         b.due("steps are numbered from 0 again", x.step(2, Bench.term(x, "false"), 0), 0);
+    }
+
+    /** What went is no step, and no literal of one, though others have its number now. */
+    private static void whatWent(Bench b) {
+        String[] names = {"(declare-const p Bool)", "(term true)", "(term p)", "(push)"};
+        TheoryCourt x = Bench.court(names);
+        step(x, "p");
+        step(x, "~p");
+        Bench.run(x, "(pop)");
+        step(x, "p");
+        add(x, "true");
+        b.due("a step that went", x.step(1, 0, 1), NONE);
+        b.due("a step that went", x.step(1, 1, 0), NONE);
+        TheoryCourt y = Bench.court(names);
+        step(y, "p");
+        Bench.run(y, "(pop)");
+        step(y);
+        step(y, "~p");
+        add(y, "true");
+        b.due("a literal that went", y.step(1, 0, 1), NONE);
+        b.due("a literal that went", y.step(1, 1, 0), NONE);
+        b.due("how many", y.clause(0, -1), 1);
+        b.due("no second one", y.clause(0, 1), NONE);
     }
 
     /** So do assert, term, push, declare, define not; nor does a command that is refused, or any other call. */
@@ -427,7 +453,7 @@ public final class ProofEdgeTest {
     private static void connected(Bench b) {
         for (String text : CONNECTED) {
             for (int draft = 0; draft < 256; draft++) {
-                TheoryCourt x = Bench.court(NAMES[3], NAMES[4], NAMES[5], "(term p)", "(term q)", "(term s)", "(term " + text + ")");
+                TheoryCourt x = Bench.worn(NAMES[3], NAMES[4], NAMES[5], "(term p)", "(term q)", "(term s)", "(term " + text + ")");
                 int[] parts = new int[x.term(3, 3)];
                 for (int i = 0; i < parts.length; i++) {
                     parts[i] = x.term(3, 4 + i);

@@ -30,6 +30,7 @@ public final class RoomEdgeTest {
         asSoonAsItIsSo(b);
         roomAfterPop(b);
         termsOfDefinitions(b);
+        parametersAreNoSymbols(b);
         unitsOfDefinitions(b);
         tokens(b);
         nestedTokens(b);
@@ -56,7 +57,7 @@ public final class RoomEdgeTest {
     }
 
     private static TheoryCourt filled(Bench b, int what, int most, String[] fill) {
-        TheoryCourt x = Bench.court(NAMES);
+        TheoryCourt x = Bench.worn(NAMES);
         for (String text : fill) {
             b.due("room for " + text, Bench.term(x, text) >= 0 ? 1 : 0, 1);
         }
@@ -348,6 +349,19 @@ public final class RoomEdgeTest {
         b.fails(x, "(term (d 63))", ROOM, 1);
         TheoryCourt y = Bench.court("(declare-const u Int)", "(term u)", "(define-fun d ((u Int)) Int (+ u 1))");
         b.due("a parameter is no symbol's term, and not kept", y.count(1), 1);
+    }
+
+    /** Its parameters are NAMES of these sorts alone, and no symbol's, however many symbols there are. */
+    private static void parametersAreNoSymbols(Bench b) {
+        for (int last = 20; last < 23; last++) {
+            TheoryCourt x = new TheoryCourt();
+            for (int i = 0; i <= last; i++) {
+                Bench.run(x, "(declare-const b" + i + " Bool)");
+            }
+            b.due("term", Bench.term(x, "b" + last), 0);
+            b.due("term", Bench.term(x, "b" + (last - 1)), 1);
+            b.runs(x, "(define-fun d ((u Int) (v Int) (w Int)) Int (ite (< u v w) w (ite (= u v) u v)))", last + 1);
+        }
     }
 
     /** Of ROOM just these count there; in the terms that come of it all do. */

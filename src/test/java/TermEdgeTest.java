@@ -72,12 +72,12 @@ public final class TermEdgeTest {
     /** Numbered as they are made, from 0; parts before what they are parts of, from the left to the right. */
     private static void numbersOfTerms(Bench b) {
         String[] wants = {"x", "1", "(< x 1)", "y", "(f y)", "a", "(select a x)", "(+ (select a x) 1)"};
-        TheoryCourt y = Bench.court(NAMES);
+        TheoryCourt y = Bench.worn(NAMES);
         b.runs(y, "(term (ite (< x 1) (f y) (inc (select a x))))", 8);
         for (int i = 0; i < wants.length; i++) {
             b.due("term " + i, Bench.written(y, i), wants[i]);
         }
-        TheoryCourt z = Bench.court(NAMES);
+        TheoryCourt z = Bench.worn(NAMES);
         b.runs(z, "(term (let ((u y) (v x)) (r v u)))", 2);
         b.due("let's terms are made in its order", Bench.written(z, 0), "y");
         b.runs(z, "(term (- 4))", 4);
@@ -95,7 +95,7 @@ public final class TermEdgeTest {
             {"(and p q)", "(let ((u p) (v q)) (and u v))"}, {"(f (+ x 2))", "(f (inc (inc x)))"}, {"true", "true"}, {"0", "(- 3 3)"},
             {"(store a x 1)", "(store a (- (+ x 1) 1) 1)"}};
         for (String[] pair : pairs) {
-            b.due(pair[0] + " is " + pair[1], share(Bench.court(NAMES), pair[0], pair[1]), 1);
+            b.due(pair[0] + " is " + pair[1], share(Bench.worn(NAMES), pair[0], pair[1]), 1);
         }
     }
 
@@ -106,7 +106,7 @@ public final class TermEdgeTest {
             {"(select a x)", "(select b x)"}, {"(select a x)", "(select a y)"}, {"(store a x 1)", "(store a x 2)"},
             {"(ite p x y)", "(ite p y x)"}, {"(and p q)", "(and q p)"}, {"(= x x)", "true"}, {"(not (not p))", "p"}};
         for (String[] pair : pairs) {
-            b.due(pair[0] + " is not " + pair[1], share(Bench.court(NAMES), pair[0], pair[1]), 0);
+            b.due(pair[0] + " is not " + pair[1], share(Bench.worn(NAMES), pair[0], pair[1]), 0);
         }
     }
 
@@ -115,19 +115,19 @@ public final class TermEdgeTest {
         String[] texts = {"0", "x", "(f x)", "(select a x)", "(ite p x y)", "(+ x 1)", "(store a x y)", "true", "false", "(not p)",
             "(and p)", "(or p)", "(xor p q)", "(=> p q)", "(= x y)", "(distinct x y)", "(< x y)", "(<= x y)", "(> x y)", "(>= x y)"};
         for (int kind = 0; kind < texts.length; kind++) {
-            TheoryCourt x = Bench.court(NAMES);
+            TheoryCourt x = Bench.worn(NAMES);
             b.due("kind of " + texts[kind], x.term(Bench.term(x, texts[kind]), 0), kind);
         }
         String[] base = {"x", "(f x)", "(select a x)", "(ite p x y)"};
         for (String text : base) {
-            TheoryCourt x = Bench.court(NAMES);
+            TheoryCourt x = Bench.worn(NAMES);
             int t = Bench.term(x, "(+ (- (+ " + text + " 5) 2) 1)");
             b.due("kind over " + text, x.term(t, 0), 5);
             b.due("number over " + text, x.term(t, 2), 4);
             b.due("part over " + text, x.term(t, 4), Bench.term(x, text));
             b.due("just one part", x.term(t, 5), -1);
         }
-        TheoryCourt x = Bench.court(NAMES);
+        TheoryCourt x = Bench.worn(NAMES);
         b.due("of a CONSTANT it is one", x.term(Bench.term(x, "(+ 4 5)"), 0), 0);
         b.due("a NAME of declare-fun with none", Bench.run(x, "(declare-fun k () Int)"), 12);
         b.due("is of kind 1", x.term(Bench.term(x, "k"), 0), 1);
@@ -140,7 +140,7 @@ public final class TermEdgeTest {
             {"(+ x 3 (- 3))", "x"}, {"(- (+ x 3) 3)", "x"}, {"(+ (- x 3) 3)", "x"}, {"(- (- x 3) (- 3))", "x"}, {"(+ (+ x 3) (- 4))", "(- x 1)"},
             {"(+ (+ x 3) 0)", "(+ x 3)"}, {"(- (f (+ x 1)) 1)", "(- (f (+ x 1)) 1)"}, {"(+ 999999 x)", "(+ x 999999)"}, {"(- 999999)", "(- 999999)"}};
         for (String[] sum : sums) {
-            TheoryCourt x = Bench.court(NAMES);
+            TheoryCourt x = Bench.worn(NAMES);
             b.due("write of " + sum[0], Bench.written(x, Bench.term(x, sum[0])), sum[1]);
         }
     }
@@ -151,7 +151,7 @@ public final class TermEdgeTest {
 
     /** A NAME is the term that let or a define-fun's parameter gave it (the innermost), else its symbol's. */
     private static void names(Bench b) {
-        TheoryCourt x = Bench.court(NAMES);
+        TheoryCourt x = Bench.worn(NAMES);
         reads(b, x, "x", "x");
         reads(b, x, "(let ((x y)) x)", "y");
         reads(b, x, "(let ((x y)) (let ((x 5)) x))", "5");
@@ -166,7 +166,7 @@ public final class TermEdgeTest {
 
     /** Of define-fun its term, read anew with its parameters standing for these; its own names stay what they were. */
     private static void definedNames(Bench b) {
-        TheoryCourt x = Bench.court(NAMES);
+        TheoryCourt x = Bench.worn(NAMES);
         b.runs(x, "(define-fun useX ((n Int)) Bool (< x n))", 12);
         reads(b, x, "(let ((x 3) (n 4)) (useX x))", "(< x 3)");
         reads(b, x, "(useX (inc (inc (inc 0))))", "(< x 3)");
@@ -177,22 +177,27 @@ public final class TermEdgeTest {
         b.runs(x, "(define-fun swapped ((v Int) (u Int)) Bool (swap v u))", 15);
         reads(b, x, "(swapped 1 2)", "(r 2 1)");
         reads(b, x, "(let ((u 5) (v 6)) (swapped v u))", "(r 5 6)");
+        // What a define-fun takes is still the same behind another one within it.
+        TheoryCourt y = Bench.worn(NAMES);
+        b.runs(y, "(define-fun most ((u Int) (v Int)) Int (ite (< (inc u) (inc v)) v u))", 12);
+        reads(b, y, "(r 9 (most 3 4))", "(r 9 (ite (< 4 5) 4 3))");
+        reads(b, y, "(let ((w 1)) (r (most 7 (inc w)) w))", "(r (ite (< 8 3) 2 7) 1)");
     }
 
     /** let: all its terms are made (by what was around), then stand for their NAMES in its last term. */
     private static void lets(Bench b) {
-        TheoryCourt x = Bench.court(NAMES);
+        TheoryCourt x = Bench.worn(NAMES);
         reads(b, x, "(let ((x y) (y x)) (< x y))", "(< y x)");
         reads(b, x, "(let ((u 1)) (let ((u (+ u 1)) (v u)) (- u v)))", "1");
         reads(b, x, "(let ((u (let ((v 2)) v))) u)", "2");
         reads(b, x, "(let ((u p) (v a) (w 1)) (ite u (select v w) w))", "(ite p (select a 1) 1)");
-        TheoryCourt y = Bench.court(NAMES);
+        TheoryCourt y = Bench.worn(NAMES);
         b.runs(y, "(term (let ((u (f 8))) 1))", 2);
         b.due("its terms are made, whether they are used or not", y.count(1), 3);
     }
 
     private static void holds(Bench b, String text, int want) {
-        TheoryCourt x = Bench.court(NAMES);
+        TheoryCourt x = Bench.worn(NAMES);
         b.due("holds of " + text, x.holds(Bench.term(x, text)), want);
     }
 
@@ -258,7 +263,7 @@ public final class TermEdgeTest {
         holds(b, "(or (< x y) (= x y) (> x y))", 1);
         holds(b, "(or (< x 5) (> x 5))", 2);
         holds(b, "(< (- 1) 0)", 1);
-        TheoryCourt x = Bench.court(NAMES);
+        TheoryCourt x = Bench.worn(NAMES);
         Bench.run(x, "(assert (> (- x 999999) 999999))");
         b.due("beyond what a NUMERAL can tell", x.value(0), 1999999);
     }
@@ -298,7 +303,7 @@ public final class TermEdgeTest {
             "1 0 0 0 0 0", "1 1 0 0 0 0", "0 2 0 0 0 0", "0 0 2 1 0 0", "0 0 2 0 1 0", "1 0 0 0 0 1", "0 2 0 0 0 0", "0 0 2 0 3 0",
             "1 0 0 0 0 3", "0 1 0 0 0 0", "0 0 0 0 0 0"};
         for (int i = 0; i < texts.length; i++) {
-            TheoryCourt x = Bench.court(NAMES);
+            TheoryCourt x = Bench.worn(NAMES);
             Bench.term(x, texts[i]);
             StringBuilder got = new StringBuilder();
             for (int what = 4; what <= 9; what++) {
@@ -338,11 +343,17 @@ public final class TermEdgeTest {
         b.runs(x, "(define-fun n ((k Bool)) Bool k)", 2);
         b.runs(x, "(term (n (d k)))", 1);
         b.due("number of the symbol that came anew", x.term(1, 2), 1);
+        TheoryCourt y = Bench.court("(push)", "(define-fun d ((u Int)) Int 7)", "(define-fun e () Int 8)", "(pop)");
+        b.runs(y, "(declare-fun g (Int) Bool)", 0);
+        b.runs(y, "(declare-const h Bool)", 1);
+        b.due("a declared one is not defined", y.symbol(0, -4), 0);
+        b.due("nor is the other", y.symbol(1, -4), 0);
+        reads(b, y, "(and (g 5) h)", "(and (g 5) h)");
     }
 
     /** Terms stay till their level goes, and are found as long as they stay. */
     private static void popOfTerms(Bench b) {
-        TheoryCourt x = Bench.court(NAMES);
+        TheoryCourt x = Bench.worn(NAMES);
         b.runs(x, "(term (f x))", 1);
         b.runs(x, "(push)", 1);
         b.runs(x, "(term (f (f x)))", 2);
@@ -361,7 +372,7 @@ public final class TermEdgeTest {
     }
 
     private static void popOfAssertions(Bench b) {
-        TheoryCourt x = Bench.court(NAMES);
+        TheoryCourt x = Bench.worn(NAMES);
         b.runs(x, "(assert (< x 3))", 0);
         b.runs(x, "(push)", 1);
         b.runs(x, "(assert (> x 3))", 1);
