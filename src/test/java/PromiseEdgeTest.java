@@ -699,12 +699,15 @@ public final class PromiseEdgeTest {
     /** What was answered once is answered by what is asserted now. */
     private static void askedAndChanged(Bench b) {
         TheoryCourt x = asserting("(> x 3)");
-        value(b, x, "x", 4);
+        b.due("value", x.value(0), 4);
         Bench.run(x, "(push)");
+        b.due("value after push", x.value(0), 4);
         Bench.run(x, "(assert (> x 8))");
-        value(b, x, "x", 9);
+        b.due("value after assert", x.value(0), 9);
         Bench.run(x, "(pop)");
-        value(b, x, "x", 4);
+        b.due("value after pop", x.value(0), 4);
+        Bench.run(x, "(term 5)");
+        b.due("value of a term that came", x.value(3), 5);
         TheoryCourt y = Bench.court(NAMES);
         hold(b, y, "p", 2);
         Bench.run(y, "(push)");
