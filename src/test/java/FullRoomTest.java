@@ -75,6 +75,21 @@ public final class FullRoomTest {
         least(b, 120, "(and p q s (r 7))");
         least(b, 96, "(and p q)");
         least(b, 66, "(and p (or (= b c) (= a b)))");
+        least(b, 16, "(ite p q s)");
+        least(b, 96, "p", "(ite p q s)");
+        least(b, 80, "p", "(ite (= a b) q s)");
+        least(b, 64, "p", "(not (ite q s (r 7)))");
+        least(b, 68, "(ite (= a b) p q)", "(not q)");
+        least(b, 0, "(not (distinct p q))");
+        least(b, 96, "p", "(not (distinct p q))");
+        least(b, 64, "p", "(distinct p q)");
+        least(b, 65, "p", "(distinct (= a c) q)");
+        least(b, 97, "p", "(not (distinct (= a c) q))", "q");
+        least(b, 64, "p", "(not (distinct p q s))");
+        least(b, 120, "p", "(= p q s (r 7))");
+        least(b, 8, "(not (= p q s (r 7)))");
+        least(b, 88, "p", "(=> p s)", "(=> p s (r 7))");
+        least(b, 64, "p", "(=> q s)");
     }
 
     private static void least(Bench b, int setting, String... texts) {
