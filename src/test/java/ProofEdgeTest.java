@@ -693,6 +693,9 @@ public final class ProofEdgeTest {
         exact(b, 8, "a", "a", "(= a a)");
         exact(b, 8, "p", "s", "(= s p)", "~(= p q)", "~(= s q)");
         exact(b, 8, "a", "(store a x 1)", "(= a (store a x 1))", "~(= a b)", "~(= (store a x 1) b)");
+        // Others that are PARTED, beside the way, are read as more literals, which do no harm.
+        yes(b, 8, "x", "z", "(= x z)", "~(= x y)", "~(= y z)", "~(= 1 2)", "~(= y 1)");
+        yes(b, 8, "x", "x", "(= x x)", "~(= x y)");
         yes(b, 8, "x", "y", "(= x y)", "~(= x y)");
         yes(b, 8, "x", "y", "(= x y)", "~(= y x)");
         no(b, 8, "x", "y", "(= x y)");

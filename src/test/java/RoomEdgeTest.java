@@ -439,9 +439,10 @@ public final class RoomEdgeTest {
         b.refuses(lengthyCourt(), "(term (up (+ " + EIGHT + " " + EIGHT + ")))", ROOM, 1);
     }
 
-    /** The tokens count for a define-fun as well; those of its own term are not told twice. */
+    /** The tokens count for a define-fun as well; its own term, as the command has it, is read as none of these. */
     private static void tokensOfDefinitions(Bench b) {
         String all = "(+ " + EIGHT + " " + EIGHT;
+        b.runs(lengthyCourt(), "(define-fun d () Int " + all + "))", 5);
         b.refuses(lengthyCourt(), "(define-fun d () Int " + all + " one))", ROOM, 1);
         b.refuses(lengthyCourt(), "(define-fun d ((n Int)) Int " + all + " k))", ROOM, 1);
         TheoryCourt x = lengthyCourt();
