@@ -2807,6 +2807,7 @@ public final class TheoryCourt {
             }
         }
     }
+
     /** Goes through cases, each with numbers that are best in it, and splits one where these are no model. */
     private static final class Search {
         /** Above all bounds that there can be: a model with such a gap shows that there is no bound. */

@@ -8,7 +8,8 @@ import java.util.List;
  * lets another solver find models, bounds and cores. A line is a command with its answer, or a call with its own.
  */
 public final class RecordedTest {
-    private static final String[] FILES = {"models.txt", "arrays.txt", "hard.txt", "reading.txt", "proofs.txt"};
+    private static final String[] FILES = {"models.txt", "arrays.txt", "hard.txt", "full.txt", "reading.txt", "wild.txt",
+        "proofs.txt"};
 
     public static void main(String[] args) throws Exception {
         Bench b = new Bench("RecordedTest");
