@@ -2821,7 +2821,7 @@ public final class TheoryCourt {
         /**
          * Far above what any run can need: 12 comparisons part 6 numbers into some 2,500 regions (as many as there
          * are ways to take no more than 6 of 12), 8 times as many for the conditions of 3 ITEs. Numbers that have
-         * little room, functions and arrays make it more: 50,000 cases were the most that a search was made to need.
+         * little room, functions and arrays make it more: 70,000 cases were the most that a search was made to need.
          */
         private static final int MAX_CASES = 1000000000;
 

@@ -75,7 +75,7 @@ public final class ThriftTest {
 
     private static void definitions(TheoryCourt x) {
         String body = Bench.repeat("(not ", 15) + "t" + Bench.repeat(")", 15);
-        for (int i = 0; i < 30; i++) {
+        for (int i = 0; i < 20; i++) {
             Bench.run(x, "(push)");
             Bench.run(x, "(define-fun d ((t Bool)) Bool " + body + ")");
             Bench.run(x, "(term (d (d true)))");
